@@ -1,0 +1,112 @@
+/** Objects in states that many tests begin with, and what can be seen of an object. */
+final class Scene {
+    /** The arguments that are no node; all else of a call is as good as can be. */
+    static final int[] NO_NODES = {-1, 2, 3, Integer.MIN_VALUE, Integer.MAX_VALUE};
+    static final int[] NO_BLOCKS = {-1, 32, 33, Integer.MIN_VALUE, Integer.MAX_VALUE};
+
+    private static final int FATES_SEEN = 10;
+
+    private Scene() {
+    }
+
+    static long generation(int current, int base) {
+        return current * (1L << 32) + base;
+    }
+
+    static TwinVolume linked(int primary) {
+        TwinVolume x = new TwinVolume();
+        x.connect();
+        x.promote(primary);
+        return x;
+    }
+
+    /** Not linked, with one PRIMARY. */
+    static TwinVolume alone(int primary) {
+        TwinVolume x = new TwinVolume();
+        x.promote(primary);
+        return x;
+    }
+
+    /** Linked, node 0 is PRIMARY and SOURCE with some blocks in its MAP. */
+    static TwinVolume source(int... blocks) {
+        TwinVolume x = alone(0);
+        for (int block : blocks) {
+            x.write(0, block, 100 + block);
+        }
+        x.connect();
+        return x;
+    }
+
+    /** Both disks went different ways; both nodes are secondary. */
+    static TwinVolume split() {
+        TwinVolume x = new TwinVolume();
+        for (int node = 0; node < 2; node++) {
+            x.promote(node);
+            x.write(node, node, 7);
+            x.demote(node);
+        }
+        return x;
+    }
+
+    /** Node 0 went down as PRIMARY and came up again; nothing was ever written. */
+    static TwinVolume crashed() {
+        TwinVolume x = alone(0);
+        x.crash(0);
+        x.restart(0);
+        return x;
+    }
+
+    /** Lets all that is on the way or waits at either node come to its end. */
+    static void settle(TwinVolume x) {
+        boolean moved = true;
+        for (int round = 0; moved && round < 1000; round++) {
+            moved = x.deliver(0) != 0 | x.deliver(1) != 0 | x.store(0, 0) != 0 | x.store(1, 0) != 0;
+        }
+    }
+
+    /** Copies all that there is to copy, four blocks at a time as an object has 512 calls alone. */
+    static void update(TwinVolume x) {
+        boolean moved = true;
+        for (int round = 0; moved && round < 1000; round++) {
+            moved = x.copy(0) >= 0 | x.copy(1) >= 0;
+            for (int k = 1; moved && k < 4; k++) {
+                x.copy(0);
+                x.copy(1);
+            }
+            settle(x);
+        }
+    }
+
+    /** All that the reading calls tell, fates of the first ten writes alone. */
+    static String all(TwinVolume x) {
+        StringBuilder seen = new StringBuilder();
+        for (int node = 0; node < 2; node++) {
+            seen.append("state ").append(x.state(node));
+            seen.append(" generation ").append(Long.toHexString(x.generation(node)));
+            seen.append(" map ").append(Integer.toHexString(x.map(node)));
+            seen.append(" log ").append(log(x, node));
+            seen.append(" traffic ").append(x.traffic(node)).append(" disk");
+            for (int block = 0; block < 32; block++) {
+                seen.append(' ').append(x.disk(node, block));
+            }
+            seen.append("; ");
+        }
+        seen.append("fates");
+        for (int write = 1; write <= FATES_SEEN; write++) {
+            seen.append(' ').append(x.fate(write));
+        }
+        return seen.toString();
+    }
+
+    static String log(TwinVolume x, int node) {
+        return x.log(node, 0) + "," + x.log(node, 1) + "," + x.log(node, 2);
+    }
+
+    static int blocks(int... blocks) {
+        int set = 0;
+        for (int block : blocks) {
+            set |= 1 << block;
+        }
+        return set;
+    }
+}

@@ -6,7 +6,8 @@ public final class Promise05StoreTest {
         nothing();
         anyOfTheEarliestEpoch();
         epochWithNoWritesWaiting();
-        disksMayMeetLaterValues();
+        eightWait();
+        sameBlockInOrder();
         check.end();
     }
 
@@ -67,7 +68,21 @@ public final class Promise05StoreTest {
         check.due("store", x.store(1, 0), 3);
     }
 
-    private static void disksMayMeetLaterValues() {
+    private static void eightWait() {
+        TwinVolume x = Scene.linked(0);
+        for (int block = 0; block < 8; block++) {
+            x.write(0, block, 1);
+            x.deliver(0);
+        }
+        check.due("traffic", x.traffic(1), 800);
+        check.due("no ninth", x.store(1, 8), 0);
+        check.due("the last", x.store(1, 7), 8);
+        check.due("the first", x.store(1, 0), 1);
+        check.due("the last", x.store(1, 5), 7);
+        check.due("traffic", x.traffic(1), 503);
+    }
+
+    private static void sameBlockInOrder() {
         TwinVolume x = Scene.linked(0);
         x.write(0, 0, 1);
         x.write(0, 0, 2);

@@ -6,6 +6,7 @@ public final class Promise10RestartTest {
         refused();
         secondary();
         crashedPrimary();
+        mapBeyondTheLog();
         crashedMarkStays();
         check.end();
     }
@@ -52,6 +53,16 @@ public final class Promise10RestartTest {
         check.due("disk", x.disk(1, 5), 2);
         check.due("generation", x.generation(1), Scene.generation(2, 1));
         check.due("restart again", x.restart(1), false);
+    }
+
+    private static void mapBeyondTheLog() {
+        TwinVolume x = Scene.alone(0);
+        for (int block = 0; block < 16; block += 4) {
+            x.write(0, block, 1);
+        }
+        x.crash(0);
+        x.restart(0);
+        check.due("block 0 stays in the MAP", x.map(0), 0xfff1);
     }
 
     private static void crashedMarkStays() {

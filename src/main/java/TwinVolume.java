@@ -356,8 +356,10 @@ public final class TwinVolume {
                 node.underWay &= ~(1 << subject);
                 takeFromMap(node, subject);
                 break;
-            default:
+            case FINISH:
                 node.takeFinish(subject);
+                break;
+            default:
                 break;
         }
     }

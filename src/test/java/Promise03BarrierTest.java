@@ -3,113 +3,237 @@ public final class Promise03BarrierTest {
     private static final Check check = new Check("promise 3");
 
     public static void main(String[] args) {
-        refused();
+        badNode();
+        notUp();
+        notPrimary();
+        changesNothingThatCanBeRead();
         separatesWrites();
-        barrierBeforeTheFirstWrite();
+        oneEpochHoweverOften();
+        isForOneWriteAlone();
+        atANodeThatIsNotLinked();
+        beforeTheFirstWrite();
         refusedWriteKeepsTheBarrier();
-        sameBlockBeginsAnEpoch();
-        acknowledgedBlockBeginsNone();
+        sameBlockPending();
+        sameBlockPendingAgainAndAgain();
+        sameBlockPendingOfAnEarlierEpoch();
+        sameBlockTillItsAckArrives();
+        sameBlockAcknowledged();
+        sameBlockAlone();
+        sameBlockLost();
+        sameExtentIsNotTheSameBlock();
+        firstWriteOfEachNode();
         check.end();
     }
 
-    private static void refused() {
-        TwinVolume x = Scene.linked(0);
+    private static void badNode() {
         for (int node : Scene.NO_NODES) {
-            check.due("barrier at no node", x.barrier(node), false);
+            Twins.denied(check, "barrier at node " + node, () -> Scene.waiting(0, 0), x -> x.barrier(node));
+            Twins.denied(check, "barrier at node " + node, () -> Scene.waiting(1, 0), x -> x.barrier(node));
         }
-        check.due("barrier at a secondary", x.barrier(1), false);
-        x.write(0, 0, 1);
-        check.due("barrier at a secondary", x.barrier(1), false);
-        x.write(0, 1, 1);
-        x.deliver(0);
-        x.deliver(0);
-        check.due("a refused barrier separates nothing", x.store(1, 1), 2);
-        x.crash(0);
-        check.due("barrier at a node that is down", x.barrier(0), false);
-        TwinVolume fresh = new TwinVolume();
-        check.due("barrier at a secondary", fresh.barrier(0), false);
+    }
+
+    private static void notUp() {
+        for (int node : Scene.NODES) {
+            Twins.denied(check, "barrier at a node that is down", () -> down(node), x -> x.barrier(node));
+        }
+    }
+
+    private static TwinVolume down(int node) {
+        TwinVolume x = Scene.pending(node, 0, 1);
+        x.crash(node);
+        return x;
+    }
+
+    private static void notPrimary() {
+        for (int node : Scene.NODES) {
+            Twins.denied(check, "barrier at a new node", TwinVolume::new, x -> x.barrier(node));
+            Twins.denied(check, "barrier at the secondary", () -> Scene.waiting(1 - node, 0), x -> x.barrier(node));
+            TwinVolume x = Scene.pending(1 - node, 0);
+            x.barrier(node);
+            x.write(1 - node, 1, 1);
+            Scene.deliverAll(x, 1 - node);
+            check.due("a refused barrier separates nothing", x.store(node, 1), 2);
+        }
+    }
+
+    private static void changesNothingThatCanBeRead() {
+        for (int node : Scene.NODES) {
+            TwinVolume x = Scene.waiting(node, 0, 31);
+            String before = Scene.all(x);
+            check.due("barrier", x.barrier(node), true);
+            check.due("after a barrier", Scene.all(x), before);
+        }
     }
 
     private static void separatesWrites() {
-        TwinVolume x = Scene.linked(1);
-        x.write(1, 0, 1);
-        x.write(1, 1, 1);
-        String before = Scene.all(x);
-        check.due("barrier", x.barrier(1), true);
-        check.due("barrier again", x.barrier(1), true);
-        check.due("after barriers", Scene.all(x), before);
-        x.write(1, 2, 1);
-        x.write(1, 3, 1);
-        deliverAll(x, 1);
-        check.due("no write of the later epoch", x.store(0, 2), 0);
-        check.due("first epoch", x.store(0, 1), 2);
-        check.due("no write of the later epoch", x.store(0, 1), 0);
-        check.due("first epoch", x.store(0, 0), 1);
-        check.due("two barriers begin one epoch", x.store(0, 1), 4);
-        check.due("second epoch", x.store(0, 0), 3);
+        for (int node : Scene.NODES) {
+            TwinVolume x = Scene.pending(node, 0, 1);
+            x.barrier(node);
+            x.write(node, 2, 1);
+            x.write(node, 3, 1);
+            Scene.deliverAll(x, node);
+            check.due("no write of the later epoch", x.store(1 - node, 2), 0);
+            check.due("first epoch", x.store(1 - node, 1), 2);
+            check.due("no write of the later epoch", x.store(1 - node, 1), 0);
+            check.due("first epoch", x.store(1 - node, 0), 1);
+            check.due("second epoch", x.store(1 - node, 1), 4);
+            check.due("second epoch", x.store(1 - node, 0), 3);
+        }
     }
 
-    private static void barrierBeforeTheFirstWrite() {
+    private static void oneEpochHoweverOften() {
+        TwinVolume x = Scene.pending(0, 0);
+        for (int k = 0; k < 3; k++) {
+            check.due("barrier", x.barrier(0), true);
+        }
+        x.write(0, 1, 1);
+        x.write(0, 2, 1);
+        x.write(0, 3, 1);
+        Scene.deliverAll(x, 0);
+        check.due("the barriers stand before write 2", x.store(1, 1), 0);
+        check.due("first epoch", x.store(1, 0), 1);
+        check.due("three barriers begin one epoch", x.store(1, 2), 4);
+        check.due("three barriers begin one epoch", x.store(1, 1), 3);
+    }
+
+    private static void isForOneWriteAlone() {
+        TwinVolume x = Scene.linked(0);
+        x.write(0, 0, 1);
+        x.barrier(0);
+        x.write(0, 1, 1);
+        x.barrier(0);
+        x.write(0, 2, 1);
+        Scene.deliverAll(x, 0);
+        for (int write = 1; write <= 3; write++) {
+            check.due("each epoch has one write", x.store(1, 1), 0);
+            check.due("each epoch has one write", x.store(1, 0), write);
+        }
+    }
+
+    private static void atANodeThatIsNotLinked() {
+        for (int node : Scene.NODES) {
+            TwinVolume x = Scene.alone(node);
+            check.due("barrier alone", x.barrier(node), true);
+            x.crash(1 - node);
+            check.due("barrier when the peer is down", x.barrier(node), true);
+        }
+    }
+
+    private static void beforeTheFirstWrite() {
         TwinVolume x = Scene.linked(0);
         x.barrier(0);
         x.write(0, 0, 1);
         x.write(0, 1, 1);
-        deliverAll(x, 0);
+        Scene.deliverAll(x, 0);
         check.due("both are of one epoch", x.store(1, 1), 2);
     }
 
     private static void refusedWriteKeepsTheBarrier() {
-        TwinVolume x = Scene.linked(0);
-        x.write(0, 0, 1);
-        x.write(0, 4, 1);
-        x.write(0, 8, 1);
+        TwinVolume x = Scene.pending(0, 0, 4, 8);
         x.barrier(0);
-        check.due("write", x.write(0, 12, 1), TwinVolume.BUSY);
+        check.due("BUSY", x.write(0, 12, 1), TwinVolume.BUSY);
+        check.due("BAD", x.write(0, 32, 1), TwinVolume.BAD);
         x.write(0, 1, 1);
-        deliverAll(x, 0);
+        Scene.deliverAll(x, 0);
         check.due("the barrier stands before write 4", x.store(1, 3), 0);
         check.due("first epoch", x.store(1, 2), 3);
+        TwinVolume y = Scene.eightPending(0);
+        y.barrier(0);
+        check.due("FULL", y.write(0, 10, 1), TwinVolume.FULL);
+        y.deliver(0);
+        y.store(1, 0);
+        y.deliver(1);
+        y.write(0, 10, 1);
+        Scene.deliverAll(y, 0);
+        check.due("the barrier stands before write 9", y.store(1, 7), 0);
+        check.due("first epoch", y.store(1, 6), 8);
     }
 
-    private static void sameBlockBeginsAnEpoch() {
-        TwinVolume x = Scene.linked(0);
-        x.write(0, 0, 1);
-        x.write(0, 1, 1);
-        x.write(0, 0, 2);
-        x.write(0, 2, 1);
-        deliverAll(x, 0);
-        check.due("third write is later", x.store(1, 2), 0);
-        check.due("first epoch", x.store(1, 0), 1);
-        check.due("first epoch has one more", x.store(1, 1), 0);
-        check.due("first epoch", x.store(1, 0), 2);
-        check.due("the write after it is of the new epoch", x.store(1, 1), 4);
-        check.due("new epoch", x.store(1, 0), 3);
-        check.due("disk", x.disk(1, 0), 2);
+    private static void sameBlockPending() {
+        for (int node : Scene.NODES) {
+            TwinVolume x = Scene.waiting(node, 0, 1, 0, 2);
+            check.due("third write is later", x.store(1 - node, 2), 0);
+            check.due("first epoch", x.store(1 - node, 0), 1);
+            check.due("first epoch has one more", x.store(1 - node, 1), 0);
+            check.due("first epoch", x.store(1 - node, 0), 2);
+            check.due("the write after it is of the new epoch", x.store(1 - node, 1), 4);
+            check.due("new epoch", x.store(1 - node, 0), 3);
+        }
     }
 
-    private static void acknowledgedBlockBeginsNone() {
-        TwinVolume x = Scene.linked(0);
-        x.write(0, 0, 1);
+    private static void sameBlockPendingAgainAndAgain() {
+        TwinVolume x = Scene.waiting(0, 31, 31, 31, 31, 31, 31, 31, 31);
+        for (int write = 1; write <= 8; write++) {
+            check.due("each is of a new epoch", x.store(1, 1), 0);
+            check.due("each is of a new epoch", x.store(1, 0), write);
+        }
+    }
+
+    private static void sameBlockPendingOfAnEarlierEpoch() {
+        TwinVolume x = Scene.pending(0, 0);
+        x.barrier(0);
         x.write(0, 1, 1);
-        deliverAll(x, 0);
+        x.write(0, 0, 1);
+        Scene.deliverAll(x, 0);
+        x.store(1, 0);
+        check.due("write 3 is later than write 2", x.store(1, 1), 0);
+        check.due("write 2", x.store(1, 0), 2);
+        check.due("write 3", x.store(1, 0), 3);
+    }
+
+    private static void sameBlockTillItsAckArrives() {
+        TwinVolume x = Scene.waiting(0, 0, 1);
         x.store(1, 0);
         x.write(0, 0, 2);
         x.deliver(0);
         check.due("write 1 is PENDING till its ACK arrives", x.store(1, 1), 0);
-        TwinVolume y = Scene.linked(0);
-        y.write(0, 0, 1);
-        y.write(0, 1, 1);
-        deliverAll(y, 0);
-        y.store(1, 0);
-        y.deliver(1);
-        y.write(0, 0, 2);
-        y.deliver(0);
-        check.due("write 1 is PENDING no longer", y.store(1, 1), 3);
     }
 
-    private static void deliverAll(TwinVolume x, int from) {
-        for (int k = 0; k < 16 && x.deliver(from) != 0; k++) {
-            continue;
-        }
+    private static void sameBlockAcknowledged() {
+        TwinVolume x = Scene.waiting(0, 0, 1);
+        x.store(1, 0);
+        x.deliver(1);
+        x.write(0, 0, 2);
+        x.deliver(0);
+        check.due("write 1 is PENDING no longer", x.store(1, 1), 3);
+    }
+
+    private static void sameBlockAlone() {
+        TwinVolume x = Scene.source(3);
+        x.write(0, 5, 1);
+        x.write(0, 3, 1);
+        Scene.deliverAll(x, 0);
+        check.due("an ALONE write begins no epoch", x.store(1, 1), 3);
+    }
+
+    private static void sameBlockLost() {
+        TwinVolume x = Scene.pending(0, 3);
+        x.crash(0);
+        x.restart(0);
+        x.promote(0);
+        x.connect();
+        x.write(0, 5, 1);
+        x.write(0, 3, 1);
+        check.due("fate", x.fate(1), 4);
+        Scene.deliverAll(x, 0);
+        check.due("a LOST write begins no epoch", x.store(1, 1), 3);
+    }
+
+    private static void sameExtentIsNotTheSameBlock() {
+        TwinVolume x = Scene.waiting(0, 0, 1, 2, 3, 28, 29, 30, 31);
+        check.due("all are of one epoch", x.store(1, 7), 8);
+        check.due("all are of one epoch", x.store(1, 6), 7);
+    }
+
+    private static void firstWriteOfEachNode() {
+        TwinVolume x = Scene.pending(0, 0);
+        Scene.settle(x);
+        x.demote(0);
+        x.promote(1);
+        x.write(1, 0, 1);
+        x.write(1, 1, 1);
+        Scene.deliverAll(x, 1);
+        check.due("the first two of node 1 are of one epoch", x.store(0, 1), 3);
+        check.due("the first of node 1", x.store(0, 0), 2);
     }
 }

@@ -3,145 +3,80 @@ public final class Promise04DeliverTest {
     private static final Check check = new Check("promise 4");
 
     public static void main(String[] args) {
-        nothing();
+        badNode();
+        noneOnTheWay();
+        noneWhenNotLinked();
+        oneAtATime();
+        inTheOrderOfSending();
+        twelveBothWaysManyTimes();
         data();
         ack();
-        ackAtSource();
-        copyAndCopied();
+        ackAtANodeThatIsNotSource();
+        ackOfABlockInTheMap();
+        ackOfABlockThatIsNotInTheMap();
+        ackOfTheLastBlockInTheMap();
+        ackAfterTheEnd();
+        copyOfLeastAndGreatest();
+        copied();
+        copiedOfTheLastBlock();
+        endWithAPendingWrite();
+        endTakesCrashedOff();
+        endAndTheFatesOfWrites();
+        finishTillItArrives();
         finish();
-        endWithPendingWrites();
-        finishTakesMarksOff();
-        inTheOrderOfSending();
+        finishTakesCrashedOff();
+        finishThatIsGone();
         check.end();
     }
 
-    private static void nothing() {
-        TwinVolume x = Scene.linked(0);
-        x.write(0, 0, 1);
-        String before = Scene.all(x);
+    private static TwinVolume bothWays() {
+        TwinVolume x = Scene.source(3, 9);
+        x.copy(0);
+        x.copy(0);
+        x.write(0, 20, 4);
+        x.deliver(0);
+        return x;
+    }
+
+    private static void badNode() {
         for (int node : Scene.NO_NODES) {
-            check.due("deliver from no node", x.deliver(node), 0);
+            Twins.refused(check, "deliver from node " + node, Promise04DeliverTest::bothWays, x -> x.deliver(node), 0);
         }
-        check.due("deliver of nothing", x.deliver(1), 0);
-        check.due("after nothing", Scene.all(x), before);
-        check.due("deliver when not linked", new TwinVolume().deliver(0), 0);
     }
 
-    private static void data() {
-        TwinVolume x = Scene.linked(0);
-        x.write(0, 0, 1);
-        check.due("DATA", x.deliver(0), 1);
-        check.due("it is on the way no longer", x.traffic(0), 0);
-        check.due("it waits", x.traffic(1), 100);
-        check.due("it is not on the disk", x.disk(1, 0), 0);
-        check.due("fate", x.fate(1), 1);
+    private static void noneOnTheWay() {
+        for (int node : Scene.NODES) {
+            Twins.refused(check, "deliver of nothing", () -> Scene.linked(0), x -> x.deliver(node), 0);
+            Twins.refused(check, "deliver from the peer", () -> Scene.pending(1 - node, 0), x -> x.deliver(node), 0);
+            Twins.refused(check, "deliver of what arrived", () -> Scene.waiting(node, 0), x -> x.deliver(node), 0);
+        }
+    }
+
+    private static void noneWhenNotLinked() {
+        for (int node : Scene.NODES) {
+            Twins.refused(check, "deliver on a new object", TwinVolume::new, x -> x.deliver(node), 0);
+            Twins.refused(check, "deliver after a break", () -> broken(-1), x -> x.deliver(node), 0);
+            Twins.refused(check, "deliver after a crash", () -> broken(0), x -> x.deliver(node), 0);
+            Twins.refused(check, "deliver after the peer's crash", () -> broken(1), x -> x.deliver(node), 0);
+        }
+    }
+
+    private static TwinVolume broken(int fallen) {
+        TwinVolume x = bothWays();
+        if (!x.crash(fallen)) {
+            x.cut();
+        }
+        return x;
+    }
+
+    private static void oneAtATime() {
+        TwinVolume x = Scene.pending(0, 0, 1, 2);
+        for (int k = 1; k <= 3; k++) {
+            check.due("DATA", x.deliver(0), 1);
+            check.due("on the way", x.traffic(0), 3 - k);
+            check.due("waiting", x.traffic(1), 100 * k);
+        }
         check.due("no more", x.deliver(0), 0);
-    }
-
-    private static void ack() {
-        TwinVolume x = Scene.linked(1);
-        x.write(1, 0, 1);
-        x.deliver(1);
-        x.store(0, 0);
-        check.due("fate", x.fate(1), 1);
-        check.due("ACK", x.deliver(0), 2);
-        check.due("fate", x.fate(1), 2);
-        check.due("state", x.state(1), 19);
-        check.due("no END at a node that is not SOURCE", x.traffic(1), 0);
-    }
-
-    private static void ackAtSource() {
-        TwinVolume x = Scene.source(3, 9);
-        check.due("write", x.write(0, 3, 5), 3);
-        x.deliver(0);
-        x.store(1, 0);
-        x.deliver(1);
-        check.due("the block leaves the MAP", x.map(0), Scene.blocks(9));
-        check.due("still SOURCE", x.state(0), 51);
-        x.write(0, 9, 6);
-        x.deliver(0);
-        x.store(1, 0);
-        check.due("ALONE till END", x.fate(1), 3);
-        check.due("last ACK", x.deliver(1), 2);
-        check.due("END: state", x.state(0), 19);
-        check.due("END: generation", x.generation(0), Scene.generation(2, 0));
-        check.due("END: fate", x.fate(1), 2);
-        check.due("END: fate", x.fate(2), 2);
-        check.due("END: FINISH is on the way", x.traffic(0), 1);
-        check.due("FINISH", x.deliver(0), 5);
-    }
-
-    private static void copyAndCopied() {
-        TwinVolume x = Scene.source(3, 9);
-        x.copy(0);
-        check.due("COPY", x.deliver(0), 3);
-        check.due("disk", x.disk(1, 3), 103);
-        check.due("COPIED is on the way", x.traffic(1), 1);
-        check.due("the block is under way still", x.traffic(0), 10000);
-        check.due("the block is in the MAP still", x.map(0), Scene.blocks(3, 9));
-        check.due("COPIED", x.deliver(1), 4);
-        check.due("under way no longer", x.traffic(0), 0);
-        check.due("in the MAP no longer", x.map(0), Scene.blocks(9));
-        check.due("SOURCE still", x.state(0), 51);
-        x.copy(0);
-        x.deliver(0);
-        check.due("last COPIED", x.deliver(1), 4);
-        check.due("END: state", x.state(0), 19);
-        check.due("END: FINISH is on the way", x.traffic(0), 1);
-    }
-
-    private static void finish() {
-        TwinVolume x = Scene.source(3);
-        Scene.update(x);
-        check.due("state", x.state(1), 17);
-        check.due("generation", x.generation(1), Scene.generation(2, 0));
-        check.due("map", x.map(1), 0);
-        TwinVolume y = Scene.source(3);
-        y.copy(0);
-        y.deliver(0);
-        y.deliver(1);
-        check.due("TARGET and TORN till FINISH", y.state(1), 85);
-        check.due("generation till FINISH", y.generation(1), Scene.generation(1, 0));
-        check.due("FINISH", y.deliver(0), 5);
-        check.due("state", y.state(1), 17);
-        check.due("nothing more", y.deliver(0), 0);
-    }
-
-    private static void endWithPendingWrites() {
-        TwinVolume x = Scene.source(3);
-        x.write(0, 3, 1);
-        x.write(0, 3, 2);
-        x.deliver(0);
-        x.store(1, 0);
-        x.deliver(1);
-        check.due("END: state", x.state(0), 19);
-        check.due("the ALONE write", x.fate(1), 2);
-        check.due("the PENDING write", x.fate(3), 1);
-        check.due("DATA was sent before FINISH", x.deliver(0), 1);
-        x.cut();
-        check.due("a break before FINISH: generation", x.generation(0), Scene.generation(3, 2));
-        check.due("fate", x.fate(3), 3);
-        check.due("acknowledged stays", x.fate(1), 2);
-        check.due("TORN stays", x.state(1), 5);
-        check.due("connect", x.connect(), 1);
-        check.due("no common number", x.map(0), -1);
-    }
-
-    private static void finishTakesMarksOff() {
-        TwinVolume x = Scene.alone(0);
-        x.connect();
-        x.write(0, 8, 3);
-        x.crash(0);
-        x.restart(0);
-        x.promote(1);
-        x.connect();
-        check.due("TARGET, TORN and CRASHED", x.state(0), 93);
-        check.due("map of the TARGET", x.map(0), 0xf00);
-        Scene.update(x);
-        check.due("all marks are off", x.state(0), 17);
-        check.due("map", x.map(0), 0);
-        check.due("generation", x.generation(0), Scene.generation(1, 0));
-        check.due("disk", x.disk(0, 8), 0);
     }
 
     private static void inTheOrderOfSending() {
@@ -157,5 +92,279 @@ public final class Promise04DeliverTest {
         check.due("second back", x.deliver(1), 2);
         check.due("third back", x.deliver(1), 4);
         check.due("map", x.map(0), Scene.blocks(2));
+    }
+
+    /** No more than 12 can be on the way at once; 72 go each way, so that room for messages is used again. */
+    private static void twelveBothWaysManyTimes() {
+        TwinVolume x = new TwinVolume();
+        x.discard(1);
+        x.promote(0);
+        x.connect();
+        for (int round = 0; round < 6; round++) {
+            for (int k = 0; k < 4; k++) {
+                check.due("COPY is sent", x.copy(0), 4 * round + k);
+            }
+            for (int k = 0; k < 8; k++) {
+                check.due("DATA is sent", x.write(0, 24 + k, 1000 * round + k), 8 * round + k + 1);
+            }
+            check.due("traffic there", x.traffic(0), 40012);
+            for (int k = 0; k < 12; k++) {
+                check.due("arrival there", x.deliver(0), k < 4 ? 3 : 1);
+            }
+            for (int k = 7; k >= 0; k--) {
+                check.due("store", x.store(1, k), 8 * round + k + 1);
+            }
+            check.due("traffic back", x.traffic(1), 12);
+            for (int k = 0; k < 12; k++) {
+                check.due("arrival back", x.deliver(1), k < 4 ? 4 : 2);
+            }
+            check.due("the last of its fates", x.fate(8 * round + 1), 2);
+            check.due("disk", x.disk(1, 24), 1000 * round);
+        }
+        check.due("map: DATA has brought the last blocks", x.map(0), 0);
+        check.due("END has been", x.state(0), 19);
+    }
+
+    private static void data() {
+        for (int node : Scene.NODES) {
+            TwinVolume x = Scene.pending(node, 0);
+            check.due("DATA", x.deliver(node), 1);
+            check.due("it is on the way no longer", x.traffic(node), 0);
+            check.due("it waits", x.traffic(1 - node), 100);
+            check.due("it is not on the disk yet", x.disk(1 - node, 0), 0);
+            check.due("fate", x.fate(1), 1);
+        }
+        TwinVolume y = Scene.pending(0, 5, 6);
+        y.deliver(0);
+        y.deliver(0);
+        check.due("it is put at the end", y.store(1, 1), 2);
+    }
+
+    private static void ack() {
+        for (int node : Scene.NODES) {
+            TwinVolume x = Scene.waiting(node, 0, 31);
+            x.store(1 - node, 1);
+            check.due("PENDING till the ACK arrives", x.fate(2), 1);
+            check.due("ACK", x.deliver(1 - node), 2);
+            check.due("ACKNOWLEDGED", x.fate(2), 2);
+            check.due("no other write", x.fate(1), 1);
+        }
+    }
+
+    private static void ackAtANodeThatIsNotSource() {
+        TwinVolume x = Scene.waiting(1, 0);
+        x.store(0, 0);
+        x.deliver(0);
+        check.due("no END though the MAP is empty", x.traffic(1), 0);
+        check.due("state", x.state(1), 19);
+    }
+
+    private static void ackOfABlockInTheMap() {
+        TwinVolume x = Scene.source(3, 9);
+        writeThrough(x, 3);
+        check.due("the block leaves the MAP", x.map(0), Scene.blocks(9));
+        check.due("still SOURCE", x.state(0), 51);
+        check.due("no END", x.traffic(0), 0);
+        check.due("ALONE till END", x.fate(1), 3);
+    }
+
+    private static void writeThrough(TwinVolume x, int block) {
+        x.write(0, block, 5);
+        x.deliver(0);
+        x.store(1, 0);
+        check.due("ACK", x.deliver(1), 2);
+    }
+
+    private static void ackOfABlockThatIsNotInTheMap() {
+        TwinVolume x = Scene.source(3);
+        writeThrough(x, 4);
+        check.due("the MAP stays", x.map(0), Scene.blocks(3));
+        check.due("still SOURCE", x.state(0), 51);
+        check.due("no END", x.traffic(0), 0);
+        check.due("fate", x.fate(2), 2);
+    }
+
+    private static void ackOfTheLastBlockInTheMap() {
+        for (int block : new int[] {0, 31}) {
+            TwinVolume x = Scene.source(block);
+            writeThrough(x, block);
+            check.due("map", x.map(0), 0);
+            check.due("END: SOURCE no longer", x.state(0), 19);
+            check.due("END: BASE is 0", x.generation(0), Scene.generation(2, 0));
+            check.due("END: the ALONE write", x.fate(1), 2);
+            check.due("END: FINISH is on the way", x.traffic(0), 1);
+            check.due("FINISH", x.deliver(0), 5);
+            check.due("generation of the peer", x.generation(1), Scene.generation(2, 0));
+        }
+    }
+
+    private static void ackAfterTheEnd() {
+        TwinVolume x = Scene.source(3);
+        x.copy(0);
+        x.write(0, 3, 5);
+        x.deliver(0);
+        x.deliver(0);
+        x.store(1, 0);
+        check.due("COPIED", x.deliver(1), 4);
+        check.due("FINISH is on the way", x.traffic(0), 1);
+        check.due("ACK", x.deliver(1), 2);
+        check.due("END happens once", x.traffic(0), 1);
+        check.due("fate", x.fate(2), 2);
+        check.due("FINISH", x.deliver(0), 5);
+        check.due("one FINISH", x.deliver(0), 0);
+    }
+
+    private static void copyOfLeastAndGreatest() {
+        TwinVolume x = Scene.alone(0);
+        x.write(0, 0, Integer.MIN_VALUE);
+        x.write(0, 31, Integer.MAX_VALUE);
+        x.connect();
+        x.copy(0);
+        x.copy(0);
+        check.due("COPY", x.deliver(0), 3);
+        check.due("disk", x.disk(1, 0), Integer.MIN_VALUE);
+        check.due("the other one is on the way", x.disk(1, 31), 0);
+        check.due("COPIED is sent back", x.traffic(1), 1);
+        check.due("COPY", x.deliver(0), 3);
+        check.due("disk", x.disk(1, 31), Integer.MAX_VALUE);
+        check.due("COPIED is sent back", x.traffic(1), 2);
+        check.due("the LOG of the TARGET", Scene.log(x, 1), "-1,-1,-1");
+    }
+
+    private static void copied() {
+        TwinVolume x = Scene.source(3, 31);
+        x.copy(0);
+        x.copy(0);
+        x.deliver(0);
+        check.due("under way till COPIED arrives", x.traffic(0), 20001);
+        check.due("in the MAP till COPIED arrives", x.map(0), Scene.blocks(3, 31));
+        check.due("COPIED", x.deliver(1), 4);
+        check.due("under way no longer", x.traffic(0), 10001);
+        check.due("in the MAP no longer", x.map(0), Scene.blocks(31));
+        check.due("SOURCE still", x.state(0), 51);
+        check.due("generation", x.generation(0), Scene.generation(2, 1));
+        check.due("fate", x.fate(1), 3);
+    }
+
+    private static void copiedOfTheLastBlock() {
+        for (int block : new int[] {0, 31}) {
+            TwinVolume x = Scene.source(block);
+            x.copy(0);
+            x.deliver(0);
+            check.due("COPIED", x.deliver(1), 4);
+            check.due("map", x.map(0), 0);
+            check.due("END: SOURCE no longer", x.state(0), 19);
+            check.due("END: BASE is 0", x.generation(0), Scene.generation(2, 0));
+            check.due("END: the ALONE write", x.fate(1), 2);
+            check.due("END: FINISH is on the way, none under way", x.traffic(0), 1);
+        }
+    }
+
+    private static void endWithAPendingWrite() {
+        TwinVolume x = Scene.source(3);
+        x.write(0, 3, 1);
+        x.write(0, 3, 2);
+        x.deliver(0);
+        x.store(1, 0);
+        x.deliver(1);
+        check.due("END: state", x.state(0), 19);
+        check.due("the ALONE write", x.fate(1), 2);
+        check.due("the PENDING write", x.fate(3), 1);
+        check.due("DATA was sent before FINISH", x.deliver(0), 1);
+        check.due("FINISH", x.deliver(0), 5);
+        check.due("the write waits still", x.traffic(1), 100);
+        check.due("store", x.store(1, 0), 3);
+    }
+
+    private static void endTakesCrashedOff() {
+        for (int node : Scene.NODES) {
+            TwinVolume x = Scene.pending(node, 9);
+            x.crash(node);
+            x.restart(node);
+            x.promote(node);
+            x.connect();
+            check.due("CRASHED till END", x.state(node), 59);
+            for (int k = 0; k < 4; k++) {
+                x.copy(node);
+            }
+            Scene.deliverAll(x, node);
+            Scene.deliverAll(x, 1 - node);
+            check.due("CRASHED no longer, PRIMARY still", x.state(node), 19);
+        }
+    }
+
+    private static void endAndTheFatesOfWrites() {
+        TwinVolume x = Scene.pending(0, 9);
+        Scene.settle(x);
+        x.cut();
+        x.write(0, 10, 1);
+        x.crash(0);
+        x.restart(0);
+        x.promote(0);
+        x.write(0, 11, 1);
+        x.write(0, 12, 1);
+        x.connect();
+        x.write(0, 30, 1);
+        for (int write = 1; write <= 5; write++) {
+            check.due("fate of write " + write + " before", x.fate(write), new int[] {2, 4, 3, 3, 1}[write - 1]);
+        }
+        for (int round = 0; round < 2; round++) {
+            for (int k = 0; k < 4; k++) {
+                x.copy(0);
+            }
+            Scene.deliverAll(x, 0);
+            Scene.deliverAll(x, 1);
+        }
+        check.due("END", x.state(0), 19);
+        for (int write = 1; write <= 5; write++) {
+            check.due("fate of write " + write + " after", x.fate(write), new int[] {2, 4, 2, 2, 1}[write - 1]);
+        }
+    }
+
+    private static void finishTillItArrives() {
+        TwinVolume x = Scene.finishing();
+        check.due("TARGET and TORN", x.state(1), 85);
+        check.due("generation", x.generation(1), Scene.generation(1, 0));
+        check.due("promote", x.promote(1), TwinVolume.UNSOUND);
+    }
+
+    private static void finish() {
+        TwinVolume x = Scene.finishing();
+        check.due("FINISH", x.deliver(0), 5);
+        check.due("state", x.state(1), 17);
+        check.due("generation", x.generation(1), Scene.generation(2, 0));
+        check.due("generation of the SOURCE", x.generation(0), Scene.generation(2, 0));
+        check.due("map", x.map(1), 0);
+        check.due("nothing is sent back", x.traffic(1), 0);
+        x.cut();
+        check.due("the nodes are one again", x.connect(), 0);
+    }
+
+    private static void finishTakesCrashedOff() {
+        TwinVolume x = Scene.pending(0, 8);
+        x.crash(0);
+        x.restart(0);
+        x.promote(1);
+        x.connect();
+        check.due("TARGET, TORN and CRASHED", x.state(0), 93);
+        check.due("map of the TARGET", x.map(0), 0xf00);
+        Scene.update(x);
+        check.due("all marks are off", x.state(0), 17);
+        check.due("its MAP is empty", x.map(0), 0);
+        check.due("generation", x.generation(0), Scene.generation(1, 0));
+        check.due("disk", x.disk(0, 8), 0);
+    }
+
+    private static void finishThatIsGone() {
+        TwinVolume x = Scene.finishing();
+        x.write(0, 3, 2);
+        x.cut();
+        check.due("BASE was 0 again after END", x.generation(0), Scene.generation(3, 2));
+        check.due("fate of what was PENDING", x.fate(2), 3);
+        check.due("acknowledged stays", x.fate(1), 2);
+        check.due("TORN stays", x.state(1), 5);
+        check.due("generation of the peer stays", x.generation(1), Scene.generation(1, 0));
+        check.due("connect", x.connect(), 1);
+        check.due("no common number", x.map(0), -1);
     }
 }

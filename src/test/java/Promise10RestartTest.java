@@ -3,41 +3,73 @@ public final class Promise10RestartTest {
     private static final Check check = new Check("promise 10");
 
     public static void main(String[] args) {
-        refused();
+        badNode();
+        up();
         secondary();
         crashedPrimary();
+        crashedPrimaryWithAnEmptyLog();
+        leastAndGreatestExtent();
         mapBeyondTheLog();
-        crashedMarkStays();
+        crashedOfLongAgo();
+        noLink();
         check.end();
     }
 
-    private static void refused() {
-        TwinVolume x = Scene.alone(0);
-        x.write(0, 0, 1);
-        String before = Scene.all(x);
+    private static TwinVolume bothDown() {
+        TwinVolume x = Scene.pending(0, 9);
+        x.crash(0);
+        x.crash(1);
+        return x;
+    }
+
+    private static void badNode() {
         for (int node : Scene.NO_NODES) {
-            check.due("restart of no node", x.restart(node), false);
+            Twins.denied(check, "restart of node " + node, Promise10RestartTest::bothDown, x -> x.restart(node));
         }
-        check.due("restart of a node that is up", x.restart(0), false);
-        check.due("restart of a node that is up", x.restart(1), false);
-        check.due("after refusals", Scene.all(x), before);
+    }
+
+    private static TwinVolume risen(int node) {
+        TwinVolume x = Scene.pending(node, 9);
+        x.crash(node);
+        x.restart(node);
+        return x;
+    }
+
+    private static void up() {
+        for (int node : Scene.NODES) {
+            Twins.denied(check, "restart of a new node", TwinVolume::new, x -> x.restart(node));
+            Twins.denied(check, "restart of a PRIMARY", () -> Scene.backward(1 - node), x -> x.restart(node));
+            Twins.denied(check, "restart in a link", () -> Scene.source(3), x -> x.restart(node));
+            Twins.denied(check, "restart again", () -> risen(node), x -> x.restart(node));
+        }
+        Twins.denied(check, "restart of a CRASHED PRIMARY", Promise10RestartTest::crashedPrimaryOnceMore,
+                x -> x.restart(0));
+    }
+
+    /** CRASHED and up with an extent in its LOG that is not in its MAP as a whole. */
+    private static TwinVolume crashedPrimaryOnceMore() {
+        TwinVolume x = risen(0);
+        x.promote(0);
+        x.write(0, 20, 1);
+        return x;
     }
 
     private static void secondary() {
-        TwinVolume x = Scene.alone(0);
-        x.write(0, 9, 1);
-        x.demote(0);
-        x.crash(0);
-        check.due("restart", x.restart(0), true);
-        check.due("state", x.state(0), 1);
-        check.due("its LOG does not join its MAP", x.map(0), Scene.blocks(9));
-        check.due("log", Scene.log(x, 0), "2,-1,-1");
+        for (int node : Scene.NODES) {
+            TwinVolume x = Scene.alone(node);
+            x.write(node, 9, 1);
+            x.demote(node);
+            x.crash(node);
+            check.due("restart", x.restart(node), true);
+            check.due("state", x.state(node), 1);
+            check.due("its LOG does not join its MAP", x.map(node), Scene.blocks(9));
+            check.due("its LOG stays", Scene.log(x, node), "2,-1,-1");
+        }
     }
 
     private static void crashedPrimary() {
         TwinVolume x = Scene.linked(1);
-        int[] blocks = {0, 9, 30, 12};
-        for (int block : blocks) {
+        for (int block : new int[] {0, 9, 30, 12}) {
             x.write(1, block, 1);
             Scene.settle(x);
         }
@@ -52,7 +84,28 @@ public final class Promise10RestartTest {
         check.due("the LOG stays", Scene.log(x, 1), "1,3,7");
         check.due("disk", x.disk(1, 5), 2);
         check.due("generation", x.generation(1), Scene.generation(2, 1));
-        check.due("restart again", x.restart(1), false);
+        check.due("the peer's MAP", x.map(0), 0);
+    }
+
+    private static void crashedPrimaryWithAnEmptyLog() {
+        for (int node : Scene.NODES) {
+            TwinVolume x = Scene.alone(node);
+            x.crash(node);
+            check.due("restart", x.restart(node), true);
+            check.due("state", x.state(node), 9);
+            check.due("map", x.map(node), 0);
+        }
+    }
+
+    private static void leastAndGreatestExtent() {
+        TwinVolume x = Scene.pending(0, 0);
+        x.crash(0);
+        x.restart(0);
+        check.due("extent 0", x.map(0), 0xf);
+        TwinVolume y = Scene.pending(0, 31);
+        y.crash(0);
+        y.restart(0);
+        check.due("extent 7", y.map(0), 0xf0000000);
     }
 
     private static void mapBeyondTheLog() {
@@ -65,17 +118,28 @@ public final class Promise10RestartTest {
         check.due("block 0 stays in the MAP", x.map(0), 0xfff1);
     }
 
-    private static void crashedMarkStays() {
+    private static void crashedOfLongAgo() {
         TwinVolume x = Scene.alone(0);
         x.write(0, 0, 1);
         x.crash(0);
         x.restart(0);
+        x.promote(0);
+        x.write(0, 20, 1);
+        check.due("map", x.map(0), 0xf | Scene.blocks(20));
+        x.demote(0);
         x.crash(0);
-        check.due("CRASHED stays when a secondary goes down", x.state(0), 8);
-        x.restart(0);
+        check.due("CRASHED stays", x.state(0), 8);
+        check.due("restart", x.restart(0), true);
         check.due("state", x.state(0), 9);
-        check.due("map", x.map(0), 0xf);
-        check.due("promote", x.promote(0), 0);
-        check.due("CRASHED stays at a PRIMARY", x.state(0), 11);
+        check.due("CRASHED before it was demoted", x.map(0), 0xf0000f);
+    }
+
+    private static void noLink() {
+        TwinVolume x = bothDown();
+        check.due("restart", x.restart(0), true);
+        check.due("the peer is down", x.state(1), 0);
+        check.due("restart", x.restart(1), true);
+        check.due("not linked", x.state(0) + x.state(1), 10);
+        check.due("connect", x.connect(), 1);
     }
 }

@@ -3,45 +3,69 @@ public final class Promise13DiscardTest {
     private static final Check check = new Check("promise 13");
 
     public static void main(String[] args) {
-        bad();
-        refused();
+        badNode();
+        notUp();
+        primary();
+        linked();
+        peerIsTorn();
         givesUp();
-        againAndAgain();
+        diskAndLogStay();
+        again();
+        peerThatIsDownOrPrimary();
         leadsToAWholeUpdate();
+        numbersAreNotUsedAgain();
         check.end();
     }
 
-    private static void bad() {
-        TwinVolume x = new TwinVolume();
-        String before = Scene.all(x);
+    private static void badNode() {
         for (int node : Scene.NO_NODES) {
-            check.due("discard of no node", x.discard(node), false);
+            Twins.denied(check, "discard of node " + node, Scene::split, x -> x.discard(node));
         }
-        check.due("after BAD", Scene.all(x), before);
     }
 
-    private static void refused() {
-        TwinVolume down = new TwinVolume();
-        down.crash(0);
-        checkRefused("a node that is down", down, 0);
-        checkRefused("a PRIMARY node", Scene.alone(1), 1);
-        checkRefused("a linked node", Scene.linked(1), 0);
-        TwinVolume torn = new TwinVolume();
-        torn.discard(1);
-        checkRefused("the peer of a TORN node", torn, 0);
-        torn.crash(1);
-        checkRefused("the peer of a TORN node that is down", torn, 0);
+    private static TwinVolume down(TwinVolume x, int node) {
+        x.crash(node);
+        return x;
     }
 
-    private static void checkRefused(String what, TwinVolume x, int node) {
-        String before = Scene.all(x);
-        check.due("discard of " + what, x.discard(node), false);
-        check.due("after discard of " + what, Scene.all(x), before);
+    private static void notUp() {
+        for (int node : Scene.NODES) {
+            Twins.denied(check, "a node that is down", () -> down(Scene.split(), node), x -> x.discard(node));
+            Twins.denied(check, "a PRIMARY that went down", () -> down(Scene.alone(node), node),
+                    x -> x.discard(node));
+        }
+    }
+
+    private static void primary() {
+        for (int node : Scene.NODES) {
+            Twins.denied(check, "a PRIMARY node", () -> Scene.alone(node), x -> x.discard(node));
+        }
+    }
+
+    private static void linked() {
+        for (int node : Scene.NODES) {
+            Twins.denied(check, "a linked node", () -> Scene.linked(1 - node), x -> x.discard(node));
+            Twins.denied(check, "a linked PRIMARY", () -> Scene.pending(node, 3), x -> x.discard(node));
+        }
+        Twins.denied(check, "a TARGET", () -> Scene.source(3), x -> x.discard(1));
+    }
+
+    private static TwinVolume secondaryPeerOfTorn(int torn) {
+        TwinVolume x = Scene.torn(torn);
+        x.demote(1 - torn);
+        return x;
+    }
+
+    private static void peerIsTorn() {
+        for (int node : Scene.NODES) {
+            Twins.denied(check, "the peer is TORN", () -> secondaryPeerOfTorn(1 - node), x -> x.discard(node));
+            Twins.denied(check, "the peer is TORN and down", () -> down(secondaryPeerOfTorn(1 - node), 1 - node),
+                    x -> x.discard(node));
+        }
     }
 
     private static void givesUp() {
-        TwinVolume x = Scene.linked(0);
-        x.write(0, 9, 1);
+        TwinVolume x = Scene.pending(0, 9);
         Scene.settle(x);
         x.cut();
         x.crash(0);
@@ -54,28 +78,47 @@ public final class Promise13DiscardTest {
         check.due("CRASHED before", x.state(0), 9);
         check.due("discard", x.discard(0), true);
         check.due("TORN, not CRASHED", x.state(0), 5);
-        check.due("generation", x.generation(0), 0);
-        check.due("map", x.map(0), 0);
+        check.due("CURRENT and BASE are 0", x.generation(0), 0);
+        check.due("its MAP is empty", x.map(0), 0);
         check.due("an acknowledged write stays", x.fate(1), 2);
         check.due("an ALONE write is LOST", x.fate(2), 4);
         check.due("the peer's ALONE write stays", x.fate(3), 3);
-        check.due("disk stays", x.disk(0, 5), 2);
-        check.due("log stays", Scene.log(x, 0), "1,2,-1");
         check.due("the peer stays", x.generation(1), Scene.generation(3, 1));
+        check.due("the peer's state", x.state(1), 3);
+        check.due("the peer's MAP", x.map(1), Scene.blocks(5));
     }
 
-    private static void againAndAgain() {
-        TwinVolume x = new TwinVolume();
-        check.due("discard", x.discard(1), true);
-        check.due("discard of a TORN node", x.discard(1), true);
-        check.due("promote", x.promote(1), TwinVolume.UNSOUND);
-        check.due("a peer that is down does not matter", discardWithPeerDown(), true);
+    private static void diskAndLogStay() {
+        for (int node : Scene.NODES) {
+            TwinVolume x = Scene.alone(node);
+            x.write(node, 0, Integer.MAX_VALUE);
+            x.write(node, 31, 5);
+            x.demote(node);
+            x.discard(node);
+            check.due("disk", x.disk(node, 0), Integer.MAX_VALUE);
+            check.due("disk", x.disk(node, 31), 5);
+            check.due("log", Scene.log(x, node), "7,0,-1");
+        }
     }
 
-    private static boolean discardWithPeerDown() {
-        TwinVolume x = new TwinVolume();
-        x.crash(0);
-        return x.discard(1);
+    private static void again() {
+        for (int node : Scene.NODES) {
+            TwinVolume x = new TwinVolume();
+            check.due("discard", x.discard(node), true);
+            String before = Scene.all(x);
+            check.due("discard of a TORN node", x.discard(node), true);
+            check.due("after discard of a TORN node", Scene.all(x), before);
+            TwinVolume y = Scene.torn(node);
+            check.due("discard of a TORN node", y.discard(node), true);
+            check.due("generation", y.generation(node), 0);
+        }
+    }
+
+    private static void peerThatIsDownOrPrimary() {
+        for (int node : Scene.NODES) {
+            check.due("the peer is down", down(new TwinVolume(), 1 - node).discard(node), true);
+            check.due("the peer is PRIMARY", Scene.alone(1 - node).discard(node), true);
+        }
     }
 
     private static void leadsToAWholeUpdate() {
@@ -90,6 +133,14 @@ public final class Promise13DiscardTest {
         check.due("what the SOURCE had", x.disk(1, 0), 7);
         check.due("fate", x.fate(1), 2);
         check.due("fate", x.fate(2), 4);
+    }
+
+    private static void numbersAreNotUsedAgain() {
+        TwinVolume x = Scene.split();
+        check.due("the greatest number", x.generation(1), Scene.generation(3, 1));
+        x.discard(1);
+        x.connect();
+        Scene.update(x);
         x.promote(1);
         x.cut();
         x.write(1, 0, 1);

@@ -101,39 +101,21 @@ public final class RandomRunsTest {
         int k = value >= 990 ? odd() : value < 10 ? value : value % 4 % 3;
         int number = value >= 990 ? odd() : value % (accepted + 2);
         switch (name) {
-            case "write" -> same("write", real.write(node, block, value), model.write(node, block, value), node, block, value);
-            case "barrier" -> same("barrier", bit(real.barrier(node)), bit(model.barrier(node)), node);
-            case "deliver" -> same("deliver", real.deliver(node), model.deliver(node), node);
-            case "store" -> same("store", real.store(node, k), model.store(node, k), node, k);
-            case "copy" -> same("copy", real.copy(node), model.copy(node), node);
-            case "connect" -> same("connect", real.connect(), model.connect());
-            case "cut" -> same("cut", bit(real.cut()), bit(model.cut()));
-            case "crash" -> same("crash", bit(real.crash(node)), bit(model.crash(node)), node);
-            case "restart" -> same("restart", bit(real.restart(node)), bit(model.restart(node)), node);
-            case "promote" -> same("promote", real.promote(node), model.promote(node), node);
-            case "demote" -> same("demote", real.demote(node), model.demote(node), node);
-            case "discard" -> same("discard", bit(real.discard(node)), bit(model.discard(node)), node);
-            case "disk" -> same("disk", real.disk(node, block), model.disk(node, block), node, block);
-            case "fate" -> same("fate", real.fate(number), model.fate(number), number);
-            case "state" -> same("state", real.state(node), model.state(node), node);
-            case "generation" -> same("generation", real.generation(node), model.generation(node), node);
-            case "map" -> same("map", real.map(node), model.map(node), node);
-            case "log" -> same("log", real.log(node, k), model.log(node, k), node, k);
-            default -> same("traffic", real.traffic(node), model.traffic(node), node);
+            case "write" -> same(name, node, block, value);
+            case "store", "log" -> same(name, node, k);
+            case "disk" -> same(name, node, block);
+            case "fate" -> same(name, number);
+            case "connect", "cut" -> same(name);
+            default -> same(name, node);
         }
     }
 
-    private static long bit(boolean answer) {
-        return answer ? 1 : 0;
-    }
-
-    private void same(String name, long got, long want, int... arguments) {
-        StringBuilder call = new StringBuilder(name);
-        for (int argument : arguments) {
-            call.append(' ').append(argument);
-        }
+    private void same(String name, int... arguments) {
+        long got = Calls.real(real, name, arguments);
+        long want = Calls.model(model, name, arguments);
+        String call = Calls.text(name, arguments);
         history.append(call).append(" -> ").append(want).append('\n');
-        check.due(call.toString(), got, want);
+        check.due(call, got, want);
         same = got == want;
         accepted += name.equals("write") && want > 0 ? 1 : 0;
         seen.merge(name + " " + kind(name, want), 1, Integer::sum);

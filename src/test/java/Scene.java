@@ -1,5 +1,6 @@
 /** Objects in states that many tests begin with, and what can be seen of an object. */
 final class Scene {
+    static final int[] NODES = {0, 1};
     /** The arguments that are no node; all else of a call is as good as can be. */
     static final int[] NO_NODES = {-1, 2, 3, Integer.MIN_VALUE, Integer.MAX_VALUE};
     static final int[] NO_BLOCKS = {-1, 32, 33, Integer.MIN_VALUE, Integer.MAX_VALUE};
@@ -37,6 +38,64 @@ final class Scene {
         return x;
     }
 
+    /** Linked, with PENDING writes of one PRIMARY to these blocks, whose DATA is on the way. */
+    static TwinVolume pending(int primary, int... blocks) {
+        TwinVolume x = linked(primary);
+        for (int block : blocks) {
+            x.write(primary, block, 100 + block);
+        }
+        return x;
+    }
+
+    /** As pending(..), and the writes wait at the peer. */
+    static TwinVolume waiting(int primary, int... blocks) {
+        TwinVolume x = pending(primary, blocks);
+        deliverAll(x, primary);
+        return x;
+    }
+
+    /** Linked, with 8 PENDING writes in the extents 0, 1 and 2. */
+    static TwinVolume eightPending(int primary) {
+        return pending(primary, 0, 4, 8, 1, 5, 9, 2, 6);
+    }
+
+    /** Not linked; both nodes are PRIMARY and made so many writes in turn, in the extents 0, 1 and 2. */
+    static TwinVolume manyAlone(int count) {
+        TwinVolume x = alone(0);
+        x.promote(1);
+        for (int k = 1; k <= count; k++) {
+            x.write(k % 2, k % 12, k);
+        }
+        return x;
+    }
+
+    /** A write of one node that is on its disk alone, and a PRIMARY peer that made none. */
+    static TwinVolume backward(int ahead) {
+        TwinVolume x = alone(ahead);
+        x.write(ahead, 2, 3);
+        x.demote(ahead);
+        x.promote(1 - ahead);
+        return x;
+    }
+
+    /** Not linked; a link that broke in the middle of an update has left one node TORN. */
+    static TwinVolume torn(int node) {
+        TwinVolume x = alone(1 - node);
+        x.write(1 - node, 2, 3);
+        x.connect();
+        x.cut();
+        return x;
+    }
+
+    /** The update is done at node 0, and FINISH is on the way to node 1. */
+    static TwinVolume finishing() {
+        TwinVolume x = source(3);
+        x.copy(0);
+        x.deliver(0);
+        x.deliver(1);
+        return x;
+    }
+
     /** Both disks went different ways; both nodes are secondary. */
     static TwinVolume split() {
         TwinVolume x = new TwinVolume();
@@ -54,6 +113,22 @@ final class Scene {
         x.crash(0);
         x.restart(0);
         return x;
+    }
+
+    /** Both nodes went down as PRIMARY and came up again; nothing was ever written. */
+    static TwinVolume bothCrashed() {
+        TwinVolume x = crashed();
+        x.promote(1);
+        x.crash(1);
+        x.restart(1);
+        return x;
+    }
+
+    /** Lets all that is on the way from a node arrive. */
+    static void deliverAll(TwinVolume x, int from) {
+        for (int k = 0; k < 32 && x.deliver(from) != 0; k++) {
+            continue;
+        }
     }
 
     /** Lets all that is on the way or waits at either node come to its end. */

@@ -15,6 +15,7 @@ public final class Promise03BarrierTest {
         refusedWriteKeepsTheBarrier();
         sameBlockPending();
         sameBlockPendingAgainAndAgain();
+        manyEpochs();
         sameBlockPendingOfAnEarlierEpoch();
         sameBlockTillItsAckArrives();
         sameBlockAcknowledged();
@@ -22,6 +23,7 @@ public final class Promise03BarrierTest {
         sameBlockLost();
         sameExtentIsNotTheSameBlock();
         firstWriteOfEachNode();
+        nothingElseBeginsAnEpoch();
         check.end();
     }
 
@@ -82,31 +84,35 @@ public final class Promise03BarrierTest {
     }
 
     private static void oneEpochHoweverOften() {
-        TwinVolume x = Scene.pending(0, 0);
-        for (int k = 0; k < 3; k++) {
-            check.due("barrier", x.barrier(0), true);
+        for (int node : Scene.NODES) {
+            TwinVolume x = Scene.pending(node, 0);
+            for (int k = 0; k < 3; k++) {
+                check.due("barrier", x.barrier(node), true);
+            }
+            x.write(node, 1, 1);
+            x.write(node, 2, 1);
+            x.write(node, 3, 1);
+            Scene.deliverAll(x, node);
+            check.due("the barriers stand before write 2", x.store(1 - node, 1), 0);
+            check.due("first epoch", x.store(1 - node, 0), 1);
+            check.due("three barriers begin one epoch", x.store(1 - node, 2), 4);
+            check.due("three barriers begin one epoch", x.store(1 - node, 1), 3);
         }
-        x.write(0, 1, 1);
-        x.write(0, 2, 1);
-        x.write(0, 3, 1);
-        Scene.deliverAll(x, 0);
-        check.due("the barriers stand before write 2", x.store(1, 1), 0);
-        check.due("first epoch", x.store(1, 0), 1);
-        check.due("three barriers begin one epoch", x.store(1, 2), 4);
-        check.due("three barriers begin one epoch", x.store(1, 1), 3);
     }
 
     private static void isForOneWriteAlone() {
-        TwinVolume x = Scene.linked(0);
-        x.write(0, 0, 1);
-        x.barrier(0);
-        x.write(0, 1, 1);
-        x.barrier(0);
-        x.write(0, 2, 1);
-        Scene.deliverAll(x, 0);
-        for (int write = 1; write <= 3; write++) {
-            check.due("each epoch has one write", x.store(1, 1), 0);
-            check.due("each epoch has one write", x.store(1, 0), write);
+        for (int node : Scene.NODES) {
+            TwinVolume x = Scene.linked(node);
+            x.write(node, 0, 1);
+            x.barrier(node);
+            x.write(node, 1, 1);
+            x.barrier(node);
+            x.write(node, 2, 1);
+            Scene.deliverAll(x, node);
+            for (int write = 1; write <= 3; write++) {
+                check.due("each epoch has one write", x.store(1 - node, 1), 0);
+                check.due("each epoch has one write", x.store(1 - node, 0), write);
+            }
         }
     }
 
@@ -120,12 +126,14 @@ public final class Promise03BarrierTest {
     }
 
     private static void beforeTheFirstWrite() {
-        TwinVolume x = Scene.linked(0);
-        x.barrier(0);
-        x.write(0, 0, 1);
-        x.write(0, 1, 1);
-        Scene.deliverAll(x, 0);
-        check.due("both are of one epoch", x.store(1, 1), 2);
+        for (int node : Scene.NODES) {
+            TwinVolume x = Scene.linked(node);
+            x.barrier(node);
+            x.write(node, 0, 1);
+            x.write(node, 1, 1);
+            Scene.deliverAll(x, node);
+            check.due("both are of one epoch", x.store(1 - node, 1), 2);
+        }
     }
 
     private static void refusedWriteKeepsTheBarrier() {
@@ -162,67 +170,95 @@ public final class Promise03BarrierTest {
     }
 
     private static void sameBlockPendingAgainAndAgain() {
-        TwinVolume x = Scene.waiting(0, 31, 31, 31, 31, 31, 31, 31, 31);
-        for (int write = 1; write <= 8; write++) {
-            check.due("each is of a new epoch", x.store(1, 1), 0);
-            check.due("each is of a new epoch", x.store(1, 0), write);
+        for (int node : Scene.NODES) {
+            TwinVolume x = Scene.waiting(node, 31, 31, 31, 31, 31, 31, 31, 31);
+            for (int write = 1; write <= 8; write++) {
+                check.due("each is of a new epoch", x.store(1 - node, 1), 0);
+                check.due("each is of a new epoch", x.store(1 - node, 0), write);
+            }
+        }
+    }
+
+    /** A hundred writes to one block, each of a new epoch as the one before it is PENDING still. */
+    private static void manyEpochs() {
+        TwinVolume x = Scene.linked(0);
+        x.write(0, 3, 0);
+        x.deliver(0);
+        for (int write = 2; write <= 100; write++) {
+            check.due("write", x.write(0, 3, write), write);
+            x.deliver(0);
+            check.due("the later one", x.store(1, 1), 0);
+            check.due("the earlier one", x.store(1, 0), write - 1);
+            check.due("ACK", x.deliver(1), 2);
         }
     }
 
     private static void sameBlockPendingOfAnEarlierEpoch() {
-        TwinVolume x = Scene.pending(0, 0);
-        x.barrier(0);
-        x.write(0, 1, 1);
-        x.write(0, 0, 1);
-        Scene.deliverAll(x, 0);
-        x.store(1, 0);
-        check.due("write 3 is later than write 2", x.store(1, 1), 0);
-        check.due("write 2", x.store(1, 0), 2);
-        check.due("write 3", x.store(1, 0), 3);
+        for (int node : Scene.NODES) {
+            TwinVolume x = Scene.pending(node, 0);
+            x.barrier(node);
+            x.write(node, 1, 1);
+            x.write(node, 0, 1);
+            Scene.deliverAll(x, node);
+            x.store(1 - node, 0);
+            check.due("write 3 is later than write 2", x.store(1 - node, 1), 0);
+            check.due("write 2", x.store(1 - node, 0), 2);
+            check.due("write 3", x.store(1 - node, 0), 3);
+        }
     }
 
     private static void sameBlockTillItsAckArrives() {
-        TwinVolume x = Scene.waiting(0, 0, 1);
-        x.store(1, 0);
-        x.write(0, 0, 2);
-        x.deliver(0);
-        check.due("write 1 is PENDING till its ACK arrives", x.store(1, 1), 0);
+        for (int node : Scene.NODES) {
+            TwinVolume x = Scene.waiting(node, 0, 1);
+            x.store(1 - node, 0);
+            x.write(node, 0, 2);
+            x.deliver(node);
+            check.due("write 1 is PENDING till its ACK arrives", x.store(1 - node, 1), 0);
+        }
     }
 
     private static void sameBlockAcknowledged() {
-        TwinVolume x = Scene.waiting(0, 0, 1);
-        x.store(1, 0);
-        x.deliver(1);
-        x.write(0, 0, 2);
-        x.deliver(0);
-        check.due("write 1 is PENDING no longer", x.store(1, 1), 3);
+        for (int node : Scene.NODES) {
+            TwinVolume x = Scene.waiting(node, 0, 1);
+            x.store(1 - node, 0);
+            x.deliver(1 - node);
+            x.write(node, 0, 2);
+            x.deliver(node);
+            check.due("write 1 is PENDING no longer", x.store(1 - node, 1), 3);
+        }
     }
 
     private static void sameBlockAlone() {
-        TwinVolume x = Scene.source(3);
-        x.write(0, 5, 1);
-        x.write(0, 3, 1);
-        Scene.deliverAll(x, 0);
-        check.due("an ALONE write begins no epoch", x.store(1, 1), 3);
+        for (int node : Scene.NODES) {
+            TwinVolume x = Scene.sourceAt(node, 3);
+            x.write(node, 5, 1);
+            x.write(node, 3, 1);
+            Scene.deliverAll(x, node);
+            check.due("an ALONE write begins no epoch", x.store(1 - node, 1), 3);
+        }
     }
 
     private static void sameBlockLost() {
-        TwinVolume x = Scene.pending(0, 3);
-        x.crash(0);
-        x.restart(0);
-        x.promote(0);
-        x.connect();
-        x.write(0, 5, 1);
-        x.write(0, 3, 1);
-        check.due("fate", x.fate(1), 4);
-        Scene.deliverAll(x, 0);
-        check.due("a LOST write begins no epoch", x.store(1, 1), 3);
+        for (int node : Scene.NODES) {
+            TwinVolume x = Scene.pending(node, 3);
+            x.crash(node);
+            x.restart(node);
+            x.promote(node);
+            x.connect();
+            x.write(node, 5, 1);
+            x.write(node, 3, 1);
+            check.due("fate", x.fate(1), 4);
+            Scene.deliverAll(x, node);
+            check.due("a LOST write begins no epoch", x.store(1 - node, 1), 3);
+        }
     }
 
     private static void sameExtentIsNotTheSameBlock() {
-        TwinVolume x = Scene.waiting(0, 0, 1, 2, 3, 28, 29, 30, 31);
-        check.due("all are of one epoch", x.store(1, 7), 8);
-        check.due("all are of one epoch", x.store(1, 6), 7);
+        for (int node : Scene.NODES) {
+            TwinVolume x = Scene.waiting(node, 0, 1, 2, 3, 28, 29, 30, 31);
+            check.due("all are of one epoch", x.store(1 - node, 7), 8);
+            check.due("all are of one epoch", x.store(1 - node, 6), 7);
+        }
     }
 
     private static void firstWriteOfEachNode() {
@@ -235,5 +271,26 @@ public final class Promise03BarrierTest {
         Scene.deliverAll(x, 1);
         check.due("the first two of node 1 are of one epoch", x.store(0, 1), 3);
         check.due("the first of node 1", x.store(0, 0), 2);
+    }
+
+    /** COPY, COPIED, END, FINISH, ACK, a promote and refused calls come between two writes of one epoch. */
+    private static void nothingElseBeginsAnEpoch() {
+        for (int node : Scene.NODES) {
+            TwinVolume x = Scene.sourceAt(node, 3);
+            x.write(node, 20, 1);
+            x.write(node, 21, 1);
+            x.copy(node);
+            Scene.deliverAll(x, node);
+            check.due("store", x.store(1 - node, 0), 2);
+            Scene.deliverAll(x, 1 - node);
+            check.due("FINISH", x.deliver(node), 5);
+            x.promote(node);
+            x.demote(node);
+            x.connect();
+            x.write(node, 22, 1);
+            x.deliver(node);
+            check.due("both are of one epoch", x.store(1 - node, 1), 4);
+            check.due("both are of one epoch", x.store(1 - node, 0), 3);
+        }
     }
 }

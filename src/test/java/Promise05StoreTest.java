@@ -121,42 +121,48 @@ public final class Promise05StoreTest {
     }
 
     private static void leastAndGreatestBlockAndValue() {
-        TwinVolume x = Scene.linked(0);
-        x.write(0, 0, Integer.MIN_VALUE);
-        x.write(0, 31, Integer.MAX_VALUE);
-        x.write(0, 0, 0);
-        Scene.deliverAll(x, 0);
-        check.due("store", x.store(1, 0), 1);
-        check.due("disk", x.disk(1, 0), Integer.MIN_VALUE);
-        check.due("store", x.store(1, 0), 2);
-        check.due("disk", x.disk(1, 31), Integer.MAX_VALUE);
-        check.due("store", x.store(1, 0), 3);
-        check.due("the value of its own write", x.disk(1, 0), 0);
+        for (int node : Scene.NODES) {
+            TwinVolume x = Scene.linked(node);
+            x.write(node, 0, Integer.MIN_VALUE);
+            x.write(node, 31, Integer.MAX_VALUE);
+            x.write(node, 0, 0);
+            Scene.deliverAll(x, node);
+            check.due("store", x.store(1 - node, 0), 1);
+            check.due("disk", x.disk(1 - node, 0), Integer.MIN_VALUE);
+            check.due("store", x.store(1 - node, 0), 2);
+            check.due("disk", x.disk(1 - node, 31), Integer.MAX_VALUE);
+            check.due("store", x.store(1 - node, 0), 3);
+            check.due("the value of its own write", x.disk(1 - node, 0), 0);
+        }
     }
 
     private static void ackOrder() {
-        TwinVolume x = Scene.waiting(0, 0, 1, 2);
-        x.store(1, 2);
-        x.store(1, 0);
-        x.deliver(1);
-        check.due("ACKs go in the order of stores", x.fate(3), 2);
-        check.due("ACKs go in the order of stores", x.fate(1), 1);
-        x.deliver(1);
-        check.due("ACKs go in the order of stores", x.fate(1), 2);
-        check.due("no ACK without a store", x.fate(2), 1);
+        for (int node : Scene.NODES) {
+            TwinVolume x = Scene.waiting(node, 0, 1, 2);
+            x.store(1 - node, 2);
+            x.store(1 - node, 0);
+            x.deliver(1 - node);
+            check.due("ACKs go in the order of stores", x.fate(3), 2);
+            check.due("ACKs go in the order of stores", x.fate(1), 1);
+            x.deliver(1 - node);
+            check.due("ACKs go in the order of stores", x.fate(1), 2);
+            check.due("no ACK without a store", x.fate(2), 1);
+        }
     }
 
     private static void earlierEpochThatIsOnTheWay() {
-        TwinVolume x = Scene.pending(0, 0, 1);
-        x.barrier(0);
-        x.write(0, 2, 1);
-        x.deliver(0);
-        check.due("store", x.store(1, 0), 1);
-        x.deliver(0);
-        x.deliver(0);
-        check.due("write 2 is of the earlier epoch", x.store(1, 1), 0);
-        check.due("store", x.store(1, 0), 2);
-        check.due("store", x.store(1, 0), 3);
+        for (int node : Scene.NODES) {
+            TwinVolume x = Scene.pending(node, 0, 1);
+            x.barrier(node);
+            x.write(node, 2, 1);
+            x.deliver(node);
+            check.due("store", x.store(1 - node, 0), 1);
+            x.deliver(node);
+            x.deliver(node);
+            check.due("write 2 is of the earlier epoch", x.store(1 - node, 1), 0);
+            check.due("store", x.store(1 - node, 0), 2);
+            check.due("store", x.store(1 - node, 0), 3);
+        }
     }
 
     private static void laterEpochNeedsNoAck() {

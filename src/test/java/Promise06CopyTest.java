@@ -22,7 +22,9 @@ public final class Promise06CopyTest {
 
     private static void badNode() {
         for (int node : Scene.NO_NODES) {
-            Twins.refused(check, "copy at node " + node, () -> Scene.source(3), x -> x.copy(node), -1);
+            for (int source : Scene.NODES) {
+                Twins.refused(check, "copy at node " + node, () -> Scene.sourceAt(source, 3), x -> x.copy(node), -1);
+            }
         }
     }
 
@@ -39,8 +41,8 @@ public final class Promise06CopyTest {
             Twins.refused(check, "copy when none is SOURCE", () -> Scene.linked(0), x -> x.copy(node), -1);
             Twins.refused(check, "copy after a break", Promise06CopyTest::cutSource, x -> x.copy(node), -1);
             Twins.refused(check, "copy after END", Scene::finishing, x -> x.copy(node), -1);
+            Twins.refused(check, "copy at the TARGET", () -> Scene.sourceAt(1 - node, 3), x -> x.copy(node), -1);
         }
-        Twins.refused(check, "copy at the TARGET", () -> Scene.source(3), x -> x.copy(1), -1);
         Twins.refused(check, "copy at a TARGET with a MAP", Promise06CopyTest::targetWithMap, x -> x.copy(0), -1);
     }
 
@@ -97,20 +99,24 @@ public final class Promise06CopyTest {
     }
 
     private static void underWayOrPending() {
-        TwinVolume x = Scene.source(0, 1, 2);
-        x.copy(0);
-        x.write(0, 1, 6);
-        check.due("neither under way nor PENDING", x.copy(0), 2);
-        check.due("no such block", x.copy(0), -1);
+        for (int node : Scene.NODES) {
+            TwinVolume x = Scene.sourceAt(node, 0, 1, 2);
+            x.copy(node);
+            x.write(node, 1, 6);
+            check.due("neither under way nor PENDING", x.copy(node), 2);
+            check.due("no such block", x.copy(node), -1);
+        }
     }
 
     private static void leastBlockFirst() {
-        TwinVolume x = Scene.source(30, 5, 31);
-        check.due("copy", x.copy(0), 5);
-        check.due("copy", x.copy(0), 30);
-        check.due("copy", x.copy(0), 31);
-        check.due("the MAP stays", x.map(0), Scene.blocks(5, 30, 31));
-        check.due("traffic", x.traffic(0), 30003);
+        for (int node : Scene.NODES) {
+            TwinVolume x = Scene.sourceAt(node, 30, 5, 31);
+            check.due("copy", x.copy(node), 5);
+            check.due("copy", x.copy(node), 30);
+            check.due("copy", x.copy(node), 31);
+            check.due("the MAP stays", x.map(node), Scene.blocks(5, 30, 31));
+            check.due("traffic", x.traffic(node), 30003);
+        }
     }
 
     private static void leastAndGreatestBlock() {
@@ -130,26 +136,30 @@ public final class Promise06CopyTest {
     }
 
     private static void pendingTillTheAck() {
-        TwinVolume x = Scene.source(0, 1);
-        x.write(0, 0, 5);
-        x.deliver(0);
-        x.store(1, 0);
-        check.due("block 0 is PENDING till the ACK arrives", x.copy(0), 1);
-        TwinVolume y = Scene.source(0, 1);
-        y.write(0, 0, 5);
-        y.write(0, 0, 6);
-        y.deliver(0);
-        y.store(1, 0);
-        y.deliver(1);
-        check.due("the first ACK took block 0 out of the MAP", y.map(0), Scene.blocks(1));
-        check.due("copy", y.copy(0), 1);
-        check.due("copy", y.copy(0), -1);
+        for (int node : Scene.NODES) {
+            TwinVolume x = Scene.sourceAt(node, 0, 1);
+            x.write(node, 0, 5);
+            x.deliver(node);
+            x.store(1 - node, 0);
+            check.due("block 0 is PENDING till the ACK arrives", x.copy(node), 1);
+            TwinVolume y = Scene.sourceAt(node, 0, 1);
+            y.write(node, 0, 5);
+            y.write(node, 0, 6);
+            y.deliver(node);
+            y.store(1 - node, 0);
+            y.deliver(1 - node);
+            check.due("the first ACK took block 0 out of the MAP", y.map(node), Scene.blocks(1));
+            check.due("copy", y.copy(node), 1);
+            check.due("copy", y.copy(node), -1);
+        }
     }
 
     private static void pendingOfAnotherBlock() {
-        TwinVolume x = Scene.source(4);
-        x.write(0, 5, 1);
-        check.due("a PENDING write in the same extent", x.copy(0), 4);
+        for (int node : Scene.NODES) {
+            TwinVolume x = Scene.sourceAt(node, 4);
+            x.write(node, 5, 1);
+            check.due("a PENDING write in the same extent", x.copy(node), 4);
+        }
     }
 
     private static void whatItDoes() {
@@ -168,34 +178,41 @@ public final class Promise06CopyTest {
     }
 
     private static void valueOfTheMoment() {
-        TwinVolume x = Scene.source(0, 1);
-        x.copy(0);
-        x.write(0, 0, 5);
-        x.deliver(0);
-        check.due("COPY has what the disk held", x.disk(1, 0), 100);
-        Scene.settle(x);
-        check.due("the write comes behind", x.disk(1, 0), 5);
-        TwinVolume y = Scene.source(0, 31);
-        y.write(0, 20, 5);
-        y.copy(0);
-        y.write(0, 31, 7);
-        Scene.settle(y);
-        check.due("the write alone brings the block", y.disk(1, 31), 7);
-        check.due("state", y.state(1), 17);
+        for (int node : Scene.NODES) {
+            TwinVolume x = Scene.sourceAt(node, 0, 1);
+            x.copy(node);
+            x.write(node, 0, 5);
+            x.deliver(node);
+            check.due("COPY has what the disk held", x.disk(1 - node, 0), 100);
+            Scene.settle(x);
+            check.due("the write comes behind", x.disk(1 - node, 0), 5);
+            TwinVolume y = Scene.sourceAt(node, 0, 31);
+            y.write(node, 20, 5);
+            y.copy(node);
+            y.write(node, 31, 7);
+            Scene.settle(y);
+            check.due("the write alone brings the block", y.disk(1 - node, 31), 7);
+            check.due("state", y.state(1 - node), 17);
+        }
     }
 
     private static void writeWhileUnderWay() {
-        TwinVolume x = Scene.source(0);
-        x.copy(0);
-        x.write(0, 0, 5);
-        check.due("COPY", x.deliver(0), 3);
-        check.due("DATA", x.deliver(0), 1);
-        check.due("COPIED", x.deliver(1), 4);
-        check.due("END though a write is PENDING", x.state(0), 19);
-        check.due("fate", x.fate(2), 1);
-        check.due("FINISH", x.deliver(0), 5);
-        Scene.settle(x);
-        check.due("fate", x.fate(2), 2);
-        check.due("generations are one", x.generation(1), x.generation(0));
+        for (int node : Scene.NODES) {
+            TwinVolume x = Scene.sourceAt(node, 0);
+            x.copy(node);
+            x.write(node, 0, 5);
+            check.due("the block is under way still", x.traffic(node), 10002);
+            check.due("the block is in the MAP still", x.map(node), Scene.blocks(0));
+            check.due("no second COPY", x.copy(node), -1);
+            check.due("COPY", x.deliver(node), 3);
+            check.due("DATA", x.deliver(node), 1);
+            check.due("COPIED", x.deliver(1 - node), 4);
+            check.due("END though a write is PENDING", x.state(node), 19);
+            check.due("fate", x.fate(2), 1);
+            check.due("FINISH", x.deliver(node), 5);
+            Scene.settle(x);
+            check.due("fate", x.fate(2), 2);
+            check.due("generations are one", x.generation(1 - node), x.generation(node));
+        }
     }
 }

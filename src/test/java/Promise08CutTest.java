@@ -61,14 +61,16 @@ public final class Promise08CutTest {
     }
 
     private static void noWriteWaits() {
-        TwinVolume x = Scene.waiting(0, 0, 1, 2, 3, 4, 5, 6, 7);
-        x.cut();
-        check.due("store", x.store(1, 0), 0);
-        check.due("traffic", x.traffic(1), 0);
-        x.connect();
-        x.write(0, 9, 5);
-        x.deliver(0);
-        check.due("a new write waits alone", x.store(1, 0), 9);
+        for (int node : Scene.NODES) {
+            TwinVolume x = Scene.waiting(node, 0, 1, 2, 3, 4, 5, 6, 7);
+            x.cut();
+            check.due("store", x.store(1 - node, 0), 0);
+            check.due("traffic", x.traffic(1 - node), 0);
+            x.connect();
+            x.write(node, 9, 5);
+            x.deliver(node);
+            check.due("a new write waits alone", x.store(1 - node, 0), 9);
+        }
     }
 
     private static void pendingWritesEndUpAlone() {
@@ -94,12 +96,14 @@ public final class Promise08CutTest {
     }
 
     private static void pendingWritesWhereBaseIsNotZero() {
-        TwinVolume x = Scene.source(3);
-        x.write(0, 20, 1);
-        x.cut();
-        check.due("fate", x.fate(2), 3);
-        check.due("map", x.map(0), Scene.blocks(3, 20));
-        check.due("no second fresh number", x.generation(0), Scene.generation(2, 1));
+        for (int node : Scene.NODES) {
+            TwinVolume x = Scene.sourceAt(node, 3);
+            x.write(node, 20, 1);
+            x.cut();
+            check.due("fate", x.fate(2), 3);
+            check.due("map", x.map(node), Scene.blocks(3, 20));
+            check.due("no second fresh number", x.generation(node), Scene.generation(2, 1));
+        }
     }
 
     private static void noPendingWriteNoFreshNumber() {
@@ -113,22 +117,24 @@ public final class Promise08CutTest {
     }
 
     private static void updateIsBroken() {
-        TwinVolume x = Scene.source(3, 9);
-        x.copy(0);
-        x.copy(0);
-        x.deliver(0);
-        check.due("cut", x.cut(), true);
-        check.due("not SOURCE", x.state(0), 3);
-        check.due("not TARGET, TORN stays", x.state(1), 5);
-        check.due("nothing is under way", x.traffic(0), 0);
-        check.due("the MAP stays", x.map(0), Scene.blocks(3, 9));
-        check.due("generation stays", x.generation(0), Scene.generation(2, 1));
-        check.due("fate stays", x.fate(1), 3);
-        check.due("connect", x.connect(), 1);
-        check.due("copy begins anew", x.copy(0), 3);
-        Scene.update(x);
-        check.due("state", x.state(1), 17);
-        check.due("fate", x.fate(1), 2);
+        for (int node : Scene.NODES) {
+            TwinVolume x = Scene.sourceAt(node, 3, 9);
+            x.copy(node);
+            x.copy(node);
+            x.deliver(node);
+            check.due("cut", x.cut(), true);
+            check.due("not SOURCE", x.state(node), 3);
+            check.due("not TARGET, TORN stays", x.state(1 - node), 5);
+            check.due("nothing is under way", x.traffic(node), 0);
+            check.due("the MAP stays", x.map(node), Scene.blocks(3, 9));
+            check.due("generation stays", x.generation(node), Scene.generation(2, 1));
+            check.due("fate stays", x.fate(1), 3);
+            check.due("connect", x.connect(), 1 + node);
+            check.due("copy begins anew", x.copy(node), 3);
+            Scene.update(x);
+            check.due("state", x.state(1 - node), 17);
+            check.due("fate", x.fate(1), 2);
+        }
     }
 
     private static void primaryStays() {

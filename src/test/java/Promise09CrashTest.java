@@ -13,6 +13,7 @@ public final class Promise09CrashTest {
         demotedWithAloneWrites();
         crashedStays();
         source();
+        secondarySource();
         target();
         bothGoDown();
         check.end();
@@ -109,18 +110,20 @@ public final class Promise09CrashTest {
     }
 
     private static void demotedWithAloneWrites() {
-        TwinVolume x = Scene.alone(0);
-        x.write(0, 9, 1);
-        x.demote(0);
-        x.crash(0);
-        check.due("an ALONE write of a secondary is LOST", x.fate(1), 4);
-        check.due("no CRASHED mark for a secondary", x.state(0), 0);
-        check.due("map stays", x.map(0), Scene.blocks(9));
-        x.restart(0);
-        check.due("connect", x.connect(), 1);
-        Scene.update(x);
-        check.due("LOST though the peer has it now", x.fate(1), 4);
-        check.due("disk", x.disk(1, 9), 1);
+        for (int node : Scene.NODES) {
+            TwinVolume x = Scene.alone(node);
+            x.write(node, 9, 1);
+            x.demote(node);
+            x.crash(node);
+            check.due("an ALONE write of a secondary is LOST", x.fate(1), 4);
+            check.due("no CRASHED mark for a secondary", x.state(node), 0);
+            check.due("map stays", x.map(node), Scene.blocks(9));
+            x.restart(node);
+            check.due("connect", x.connect(), 1 + node);
+            Scene.update(x);
+            check.due("LOST though the peer has it now", x.fate(1), 4);
+            check.due("disk", x.disk(1 - node, 9), 1);
+        }
     }
 
     private static void crashedStays() {
@@ -130,43 +133,60 @@ public final class Promise09CrashTest {
     }
 
     private static void source() {
-        TwinVolume x = Scene.source(3, 4);
-        x.copy(0);
-        x.write(0, 20, 1);
-        x.crash(0);
-        check.due("CRASHED, not SOURCE", x.state(0), 8);
-        check.due("TORN, not TARGET", x.state(1), 5);
-        check.due("its ALONE write", x.fate(1), 4);
-        check.due("its PENDING write", x.fate(3), 4);
-        check.due("map", x.map(0), Scene.blocks(3, 4));
-        check.due("nothing is under way", x.traffic(0), 0);
-        x.restart(0);
-        x.connect();
-        Scene.update(x);
-        check.due("a LOST write stays so at END", x.fate(1), 4);
-        check.due("state", x.state(1), 17);
+        for (int node : Scene.NODES) {
+            TwinVolume x = Scene.sourceAt(node, 3, 4);
+            x.copy(node);
+            x.write(node, 20, 1);
+            x.crash(node);
+            check.due("CRASHED, not SOURCE", x.state(node), 8);
+            check.due("TORN, not TARGET", x.state(1 - node), 5);
+            check.due("its ALONE write", x.fate(1), 4);
+            check.due("its PENDING write", x.fate(3), 4);
+            check.due("map", x.map(node), Scene.blocks(3, 4));
+            check.due("nothing is under way", x.traffic(node), 0);
+            x.restart(node);
+            x.connect();
+            Scene.update(x);
+            check.due("a LOST write stays so at END", x.fate(1), 4);
+            check.due("state", x.state(1 - node), 17);
+        }
+    }
+
+    private static void secondarySource() {
+        for (int node : Scene.NODES) {
+            TwinVolume x = Scene.sourceAt(node, 3);
+            x.demote(node);
+            x.crash(node);
+            check.due("not CRASHED, not SOURCE", x.state(node), 0);
+            check.due("TORN, not TARGET", x.state(1 - node), 5);
+            check.due("its ALONE write", x.fate(1), 4);
+        }
     }
 
     private static void target() {
-        TwinVolume x = Scene.source(3);
-        x.copy(0);
-        x.crash(1);
-        check.due("TORN stays", x.state(1), 4);
-        check.due("not SOURCE", x.state(0), 3);
-        check.due("nothing is under way", x.traffic(0), 0);
-        check.due("fate of the SOURCE's write", x.fate(1), 3);
-        x.restart(1);
-        check.due("TORN stays", x.state(1), 5);
+        for (int node : Scene.NODES) {
+            TwinVolume x = Scene.sourceAt(node, 3);
+            x.copy(node);
+            x.crash(1 - node);
+            check.due("TORN stays", x.state(1 - node), 4);
+            check.due("not SOURCE", x.state(node), 3);
+            check.due("nothing is under way", x.traffic(node), 0);
+            check.due("fate of the SOURCE's write", x.fate(1), 3);
+            x.restart(1 - node);
+            check.due("TORN stays", x.state(1 - node), 5);
+        }
     }
 
     private static void bothGoDown() {
-        TwinVolume x = Scene.pending(0, 3);
-        check.due("crash", x.crash(1), true);
-        check.due("crash", x.crash(0), true);
-        check.due("fate", x.fate(1), 4);
-        check.due("state", x.state(0), 8);
-        check.due("state", x.state(1), 0);
-        check.due("it ended up alone first", x.generation(0), Scene.generation(2, 1));
-        check.due("crash again", x.crash(0) || x.crash(1), false);
+        for (int node : Scene.NODES) {
+            TwinVolume x = Scene.pending(node, 3);
+            check.due("crash", x.crash(1 - node), true);
+            check.due("crash", x.crash(node), true);
+            check.due("fate", x.fate(1), 4);
+            check.due("state", x.state(node), 8);
+            check.due("state", x.state(1 - node), 0);
+            check.due("it ended up alone first", x.generation(node), Scene.generation(2, 1));
+            check.due("crash again", x.crash(node) || x.crash(1 - node), false);
+        }
     }
 }

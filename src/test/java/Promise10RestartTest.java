@@ -98,40 +98,46 @@ public final class Promise10RestartTest {
     }
 
     private static void leastAndGreatestExtent() {
-        TwinVolume x = Scene.pending(0, 0);
-        x.crash(0);
-        x.restart(0);
-        check.due("extent 0", x.map(0), 0xf);
-        TwinVolume y = Scene.pending(0, 31);
-        y.crash(0);
-        y.restart(0);
-        check.due("extent 7", y.map(0), 0xf0000000);
+        for (int node : Scene.NODES) {
+            TwinVolume x = Scene.pending(node, 0);
+            x.crash(node);
+            x.restart(node);
+            check.due("extent 0", x.map(node), 0xf);
+            TwinVolume y = Scene.pending(node, 31);
+            y.crash(node);
+            y.restart(node);
+            check.due("extent 7", y.map(node), 0xf0000000);
+        }
     }
 
     private static void mapBeyondTheLog() {
-        TwinVolume x = Scene.alone(0);
-        for (int block = 0; block < 16; block += 4) {
-            x.write(0, block, 1);
+        for (int node : Scene.NODES) {
+            TwinVolume x = Scene.alone(node);
+            for (int block = 0; block < 16; block += 4) {
+                x.write(node, block, 1);
+            }
+            x.crash(node);
+            x.restart(node);
+            check.due("block 0 stays in the MAP", x.map(node), 0xfff1);
         }
-        x.crash(0);
-        x.restart(0);
-        check.due("block 0 stays in the MAP", x.map(0), 0xfff1);
     }
 
     private static void crashedOfLongAgo() {
-        TwinVolume x = Scene.alone(0);
-        x.write(0, 0, 1);
-        x.crash(0);
-        x.restart(0);
-        x.promote(0);
-        x.write(0, 20, 1);
-        check.due("map", x.map(0), 0xf | Scene.blocks(20));
-        x.demote(0);
-        x.crash(0);
-        check.due("CRASHED stays", x.state(0), 8);
-        check.due("restart", x.restart(0), true);
-        check.due("state", x.state(0), 9);
-        check.due("CRASHED before it was demoted", x.map(0), 0xf0000f);
+        for (int node : Scene.NODES) {
+            TwinVolume x = Scene.alone(node);
+            x.write(node, 0, 1);
+            x.crash(node);
+            x.restart(node);
+            x.promote(node);
+            x.write(node, 20, 1);
+            check.due("map", x.map(node), 0xf | Scene.blocks(20));
+            x.demote(node);
+            x.crash(node);
+            check.due("CRASHED stays", x.state(node), 8);
+            check.due("restart", x.restart(node), true);
+            check.due("state", x.state(node), 9);
+            check.due("CRASHED before it was demoted", x.map(node), 0xf0000f);
+        }
     }
 
     private static void noLink() {

@@ -55,11 +55,13 @@ public final class Promise11PromoteTest {
     }
 
     private static void unsoundTillFinish() {
-        TwinVolume x = Scene.finishing();
-        x.demote(0);
-        check.due("FINISH is on the way", x.promote(1), TwinVolume.UNSOUND);
-        x.deliver(0);
-        check.due("TORN no longer", x.promote(1), 0);
+        for (int node : Scene.NODES) {
+            TwinVolume x = Scene.finishingAt(1 - node);
+            x.demote(1 - node);
+            check.due("FINISH is on the way", x.promote(node), TwinVolume.UNSOUND);
+            x.deliver(1 - node);
+            check.due("TORN no longer", x.promote(node), 0);
+        }
     }
 
     private static void rival() {
@@ -87,7 +89,10 @@ public final class Promise11PromoteTest {
     }
 
     private static void unsoundComesBeforeRival() {
-        Twins.refused(check, "UNSOUND and RIVAL", () -> Scene.source(3), x -> x.promote(1), TwinVolume.UNSOUND);
+        for (int node : Scene.NODES) {
+            Twins.refused(check, "UNSOUND and RIVAL", () -> Scene.sourceAt(1 - node, 3), x -> x.promote(node),
+                    TwinVolume.UNSOUND);
+        }
     }
 
     private static void becomesPrimary() {

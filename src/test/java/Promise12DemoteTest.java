@@ -68,16 +68,18 @@ public final class Promise12DemoteTest {
     }
 
     private static void busyTillTheLastAck() {
-        TwinVolume x = Scene.waiting(0, 0, 1);
-        x.store(1, 1);
-        x.deliver(1);
-        check.due("one of two is PENDING", x.demote(0), TwinVolume.BUSY);
-        x.store(1, 0);
-        x.deliver(1);
-        check.due("none is PENDING", x.demote(0), 0);
-        check.due("state", x.state(0), 17);
-        check.due("the peer takes over", x.promote(1), 0);
-        check.due("write", x.write(1, 0, 2), 3);
+        for (int node : Scene.NODES) {
+            TwinVolume x = Scene.waiting(node, 0, 1);
+            x.store(1 - node, 1);
+            x.deliver(1 - node);
+            check.due("one of two is PENDING", x.demote(node), TwinVolume.BUSY);
+            x.store(1 - node, 0);
+            x.deliver(1 - node);
+            check.due("none is PENDING", x.demote(node), 0);
+            check.due("state", x.state(node), 17);
+            check.due("the peer takes over", x.promote(1 - node), 0);
+            check.due("write", x.write(1 - node, 0, 2), 3);
+        }
     }
 
     private static void notBusyAfterABreak() {
@@ -91,13 +93,15 @@ public final class Promise12DemoteTest {
     }
 
     private static void aloneWritesDoNotStandInTheWay() {
-        TwinVolume x = Scene.source(3);
-        check.due("demote", x.demote(0), 0);
-        check.due("it is SOURCE still", x.state(0), 49);
-        Scene.update(x);
-        check.due("a secondary SOURCE comes to its END", x.state(0), 17);
-        check.due("disk", x.disk(1, 3), 103);
-        check.due("fate", x.fate(1), 2);
+        for (int node : Scene.NODES) {
+            TwinVolume x = Scene.sourceAt(node, 3);
+            check.due("demote", x.demote(node), 0);
+            check.due("it is SOURCE still", x.state(node), 49);
+            Scene.update(x);
+            check.due("a secondary SOURCE comes to its END", x.state(node), 17);
+            check.due("disk", x.disk(1 - node, 3), 103);
+            check.due("fate", x.fate(1), 2);
+        }
     }
 
     private static void becomesSecondary() {

@@ -47,7 +47,9 @@ public final class Promise13DiscardTest {
             Twins.denied(check, "a linked node", () -> Scene.linked(1 - node), x -> x.discard(node));
             Twins.denied(check, "a linked PRIMARY", () -> Scene.pending(node, 3), x -> x.discard(node));
         }
-        Twins.denied(check, "a TARGET", () -> Scene.source(3), x -> x.discard(1));
+        for (int node : Scene.NODES) {
+            Twins.denied(check, "a TARGET", () -> Scene.sourceAt(1 - node, 3), x -> x.discard(node));
+        }
     }
 
     private static TwinVolume secondaryPeerOfTorn(int torn) {

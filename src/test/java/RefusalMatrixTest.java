@@ -32,6 +32,10 @@ public final class RefusalMatrixTest {
         "connect, promote 0, write 0 0 1, write 0 1 1, write 0 2 1, write 0 3 1, write 0 4 1, write 0 5 1, write 0 8 1",
         "connect, promote 1, write 1 0 1, write 1 1 1, write 1 2 1, write 1 3 1, write 1 4 1, write 1 5 1, write 1 8 1,"
                 + " write 1 9 1, deliver 1, deliver 1, store 0 1",
+        "connect, promote 0, write 0 0 1, write 0 1 1, write 0 2 1, write 0 3 1, write 0 4 1, write 0 5 1, write 0 8 1,"
+                + " write 0 9 1, barrier 0, deliver 0",
+        "connect, promote 1, write 1 0 1, write 1 4 1, write 1 8 1, barrier 1, deliver 1",
+        "connect, promote 0, write 0 0 1, write 0 0 2, write 0 0 3, deliver 0, deliver 0, deliver 0",
         "promote 0, write 0 0 1, write 0 1 1, write 0 2 1, write 0 3 1, write 0 4 1, write 0 31 1, connect, copy 0,"
                 + " copy 0, copy 0, copy 0, deliver 0",
         "promote 0, write 0 6 1, write 0 31 1, connect, copy 0, write 0 31 2, write 0 8 3, deliver 0, deliver 0",
@@ -44,6 +48,7 @@ public final class RefusalMatrixTest {
         "promote 1, write 1 6 1, crash 1, crash 0",
         "connect, promote 0, write 0 6 1, crash 0, restart 0",
         "connect, promote 0, write 0 6 1, crash 0, restart 0, promote 1",
+        "connect, promote 0, write 0 6 1, crash 0, restart 0, promote 0, write 0 20 1",
         "connect, promote 0, write 0 6 1, crash 0, restart 0, promote 1, connect, copy 1",
         "promote 0, crash 0, restart 0, promote 1, crash 1, restart 1",
         "promote 0, crash 0, restart 0, connect",

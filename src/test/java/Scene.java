@@ -30,9 +30,14 @@ final class Scene {
 
     /** Linked, node 0 is PRIMARY and SOURCE with some blocks in its MAP. */
     static TwinVolume source(int... blocks) {
-        TwinVolume x = alone(0);
+        return sourceAt(0, blocks);
+    }
+
+    /** Linked, the node is PRIMARY and SOURCE with some blocks in its MAP. */
+    static TwinVolume sourceAt(int node, int... blocks) {
+        TwinVolume x = alone(node);
         for (int block : blocks) {
-            x.write(0, block, 100 + block);
+            x.write(node, block, 100 + block);
         }
         x.connect();
         return x;
@@ -89,10 +94,15 @@ final class Scene {
 
     /** The update is done at node 0, and FINISH is on the way to node 1. */
     static TwinVolume finishing() {
-        TwinVolume x = source(3);
-        x.copy(0);
-        x.deliver(0);
-        x.deliver(1);
+        return finishingAt(0);
+    }
+
+    /** The update is done at the node, and FINISH is on the way to its peer. */
+    static TwinVolume finishingAt(int node) {
+        TwinVolume x = sourceAt(node, 3);
+        x.copy(node);
+        x.deliver(node);
+        x.deliver(1 - node);
         return x;
     }
 

@@ -8,6 +8,7 @@ public final class TermsTest {
         freshNumbersGoOverBothNodes();
         freshNumberAfterGivenUpNumbers();
         freshNumberAfterEnd();
+        seventyFreshNumbers();
         endsUpAloneWhereBaseIsZero();
         endsUpAloneWhereBaseIsNotZero();
         aloneInABlockThatIsInTheMap();
@@ -77,6 +78,23 @@ public final class TermsTest {
             x.write(0, 3, number);
             x.connect();
         }
+    }
+
+    private static void seventyFreshNumbers() {
+        TwinVolume x = Scene.alone(1);
+        for (int number = 2; number <= 70; number++) {
+            x.write(1, 31, number);
+            x.connect();
+            x.copy(1);
+            x.deliver(1);
+            x.deliver(0);
+            check.due("FINISH", x.deliver(1), 5);
+            x.cut();
+        }
+        check.due("the SOURCE", x.generation(1), Scene.generation(70, 0));
+        check.due("the TARGET", x.generation(0), Scene.generation(70, 0));
+        x.write(1, 31, 71);
+        check.due("CURRENT 71, BASE 70", x.generation(1), 71 * 4294967296L + 70);
     }
 
     private static void endsUpAloneWhereBaseIsZero() {

@@ -29,9 +29,12 @@ final class Twins {
         same(check, what + ", then all that can be read", scene, call, Twins::read);
         same(check, what + ", then the fates of later writes", scene, call, Twins::readLaterFates);
         same(check, what + ", then all messages", scene, call, Twins::drain);
-        same(check, what + ", then new writes", scene, call, Twins::writeOn);
+        same(check, what + ", then new writes", scene, call, x -> writeOn(x, 3, 2));
+        same(check, what + ", then other new writes", scene, call, x -> writeOn(x, 1, 0));
+        same(check, what + ", then a new write behind an ACK", scene, call, Twins::writeAfterAnAck);
         same(check, what + ", then writes of both nodes alone", scene, call, Twins::crashAndWrite);
         same(check, what + ", then an update", scene, call, Twins::update);
+        same(check, what + ", then a whole update", scene, call, Twins::updateWhole);
     }
 
     private static void same(Check check, String what, Supplier<TwinVolume> scene, Function<TwinVolume, Object> call,
@@ -74,13 +77,16 @@ final class Twins {
         return seen + "; " + Scene.all(x);
     }
 
-    /** Two more writes in the extent used last, so that their epoch shows beside writes that wait already. */
-    private static String writeOn(TwinVolume x) {
+    /**
+     * Two more writes in the extent used last, so that their epoch shows beside writes that wait already, if
+     * none of these is to the same block.
+     */
+    private static String writeOn(TwinVolume x, int first, int second) {
         StringBuilder seen = new StringBuilder();
         for (int node = 0; node < 2; node++) {
             int extent = Math.max(x.log(node, 0), 0);
-            seen.append(' ').append(x.write(node, 4 * extent + 3, 1001));
-            seen.append(' ').append(x.write(node, 4 * extent + 2, 1002));
+            seen.append(' ').append(x.write(node, 4 * extent + first, 1001));
+            seen.append(' ').append(x.write(node, 4 * extent + second, 1002));
             for (int k = 0; k < 16; k++) {
                 seen.append(' ').append(x.deliver(node));
             }
@@ -89,6 +95,29 @@ final class Twins {
             }
         }
         seen.append(' ').append(x.cut());
+        return seen + brief(x);
+    }
+
+    /** As writeOn(..) where 8 writes were PENDING: one ACK makes room first. */
+    private static String writeAfterAnAck(TwinVolume x) {
+        StringBuilder seen = new StringBuilder();
+        for (int node = 0; node < 2; node++) {
+            int extent = Math.max(x.log(node, 0), 0);
+            for (int k = 0; k < 13; k++) {
+                seen.append(' ').append(x.deliver(node));
+            }
+            seen.append(' ').append(x.store(1 - node, 0));
+            for (int k = 0; k < 13; k++) {
+                seen.append(' ').append(x.deliver(1 - node));
+            }
+            for (int k = 3; k >= 0; k--) {
+                seen.append(' ').append(x.write(node, 4 * extent + k, 1005));
+                seen.append(' ').append(x.deliver(node));
+            }
+            for (int k = 10; k >= 0; k--) {
+                seen.append(' ').append(x.store(1 - node, k));
+            }
+        }
         return seen + brief(x);
     }
 
@@ -114,6 +143,30 @@ final class Twins {
                 seen.append(' ').append(x.deliver(0)).append(' ').append(x.deliver(1));
             }
         }
+        return seen + brief(x);
+    }
+
+    /** Brings the nodes together whatever parted them, so that a later write shows the next fresh number. */
+    private static String updateWhole(TwinVolume x) {
+        StringBuilder seen = new StringBuilder();
+        seen.append(x.cut());
+        for (int node = 0; node < 2; node++) {
+            seen.append(' ').append(x.restart(node)).append(' ').append(x.demote(node));
+            seen.append(' ').append(x.discard(node));
+        }
+        seen.append(' ').append(x.connect());
+        for (int round = 0; round < 8; round++) {
+            for (int k = 0; k < 4; k++) {
+                seen.append(' ').append(x.copy(0)).append(' ').append(x.copy(1));
+            }
+            for (int k = 0; k < 4; k++) {
+                seen.append(' ').append(x.deliver(0)).append(' ').append(x.deliver(1));
+                seen.append(' ').append(x.deliver(0));
+            }
+        }
+        seen.append(' ').append(x.deliver(1)).append(' ').append(x.cut());
+        seen.append(' ').append(x.promote(0)).append(' ').append(x.write(0, 14, 1006));
+        seen.append(' ').append(x.promote(1)).append(' ').append(x.write(1, 14, 1007));
         return seen + brief(x);
     }
 
